@@ -1,0 +1,440 @@
+/** Each promise by itself: ordinary inputs, the edges that the document names, wrong inputs. */
+public final class PromisesTest {
+    private static final Checks CHECKS = new Checks();
+    private static final Class<IllegalStateException> STATE = IllegalStateException.class;
+    private static final Class<IllegalArgumentException> BAD = IllegalArgumentException.class;
+    private static final Class<ArithmeticException> DAMAGED = ArithmeticException.class;
+    private static final Class<IndexOutOfBoundsException> OUTSIDE = IndexOutOfBoundsException.class;
+
+    public static void main(String[] args) {
+        newObject();
+        feed();
+        end();
+        change();
+        base();
+        makeNumbers();
+        makeNew();
+        makeCopies();
+        useSound();
+        useDamagedNumbers();
+        useDamagedSteps();
+        turn();
+        longest();
+        letter();
+        count();
+        CHECKS.finish();
+    }
+
+    private static void newObject() {
+        DeltaPress x = new DeltaPress();
+        for (int what = 0; what <= 5; what++) {
+            CHECKS.due("1: count(" + what + ") of a new object", x.count(what), 0);
+        }
+        CHECKS.dueThrow("1: letter(0) of a new object", OUTSIDE, () -> x.letter(0));
+        CHECKS.due("1: make of a new object", x.make(), 2);
+        CHECKS.dueOutput("1: DELTA of a new object", x, 0, 0);
+        DeltaPress y = new DeltaPress();
+        CHECKS.due("1: turn of a new object", y.turn(), 0);
+        CHECKS.due("1: base of a new object", y.base(), 0);
+    }
+
+    private static void feed() {
+        DeltaPress x = new DeltaPress();
+        CHECKS.due("2: feed", x.feed(0x00010203, 0x04050607, 0x7f8081ff, -1, 0x80000001), 20);
+        CHECKS.due("2: feed again", x.feed(0x0a0b0c0d, 0, 0, 0, 0x000000fe), 40);
+        x.make();
+        x.turn();
+        x.use();
+        CHECKS.dueOutput("2: the fed BYTES", x, 0, 1, 2, 3, 4, 5, 6, 7, 127, 128, 129, 255, 255, 255, 255, 255,
+                128, 0, 0, 1, 10, 11, 12, 13, 0, 0, 0, 0, 0, 0, 0, 0, 0, 0, 0, 0, 0, 0, 0, 254);
+        DeltaPress full = new DeltaPress();
+        Checks.putLong(full, Checks.text("abcdefgh"), 65536);
+        CHECKS.dueThrow("2: feed when full", STATE, () -> full.feed(1, 2, 3, 4, 5));
+        full.end(19);
+        CHECKS.dueThrow("2: feed with room for 19", STATE, () -> full.feed(1, 2, 3, 4, 5));
+        CHECKS.due("2: refused feed changes nothing", full.count(0), 65517);
+        full.end(1);
+        CHECKS.due("2: feed with room for 20", full.feed(1, 2, 3, 4, 5), 65536);
+    }
+
+    private static void end() {
+        DeltaPress x = new DeltaPress();
+        CHECKS.due("3: end(0) of nothing", x.end(0), 0);
+        CHECKS.dueThrow("3: end(1) of nothing", BAD, () -> x.end(1));
+        Checks.put(x, Checks.text("abcde"));
+        CHECKS.dueThrow("3: end(-1)", BAD, () -> x.end(-1));
+        CHECKS.dueThrow("3: end(6) of 5", BAD, () -> x.end(6));
+        CHECKS.dueThrow("3: end(least)", BAD, () -> x.end(Integer.MIN_VALUE));
+        CHECKS.dueThrow("3: end(greatest)", BAD, () -> x.end(Integer.MAX_VALUE));
+        CHECKS.due("3: refused end changes nothing", x.count(0), 5);
+        CHECKS.due("3: end(2)", x.end(2), 3);
+        x.make();
+        CHECKS.dueOutput("3: what is left", x, 0, 3, 3, 'a', 'b', 'c');
+        CHECKS.due("3: end of all", x.end(3), 0);
+    }
+
+    private static void change() {
+        DeltaPress x = new DeltaPress();
+        CHECKS.dueThrow("4: change in nothing", BAD, () -> changed(x, 0, 1));
+        Checks.put(x, 0, 1, 255, 170);
+        CHECKS.dueThrow("4: change(-1, 1)", BAD, () -> changed(x, -1, 1));
+        CHECKS.dueThrow("4: change(4, 1) of 4", BAD, () -> changed(x, 4, 1));
+        CHECKS.dueThrow("4: change(0, -1)", BAD, () -> changed(x, 0, -1));
+        CHECKS.dueThrow("4: change(0, 256)", BAD, () -> changed(x, 0, 256));
+        x.change(0, 255);
+        x.change(1, 0);
+        x.change(2, 128);
+        x.change(3, 85);
+        x.make();
+        CHECKS.dueOutput("4: xored", x, 0, 4, 4, 255, 1, 127, 255);
+        x.change(3, 85);
+        x.make();
+        CHECKS.dueOutput("4: xored back", x, 0, 4, 4, 255, 1, 127, 170);
+    }
+
+    private static long changed(DeltaPress x, int i, int value) {
+        x.change(i, value);
+        return 0;
+    }
+
+    private static void base() {
+        DeltaPress x = new DeltaPress();
+        Checks.put(x, Checks.text("a base of more than 20 BYTES"));
+        CHECKS.due("5: base", x.base(), 28);
+        CHECKS.due("5: INPUT is empty", x.count(0), 0);
+        CHECKS.due("5: BASE is there", x.count(1), 28);
+        Checks.put(x, Checks.text("base of more"));
+        CHECKS.due("5: found in BASE", x.longest(0, 1), 2);
+        x.make();
+        CHECKS.due("5: base again", x.base(), 12);
+        CHECKS.due("5: OUTPUT stays", x.count(2), 5);
+        Checks.put(x, Checks.text("than 20 BYTES"));
+        CHECKS.due("5: the old BASE is gone", x.longest(0, 0), 0);
+        Checks.put(x, Checks.text(".base of more"));
+        CHECKS.due("5: the new BASE is there", x.longest(1, 0), 12);
+        x.end(13);
+        CHECKS.due("5: empty base", x.base(), 0);
+        CHECKS.due("5: BASE is empty", x.count(1), 0);
+    }
+
+    private static void makeNumbers() {
+        int[] lengths = {0, 1, 127, 128, 129, 255, 256, 1000};
+        for (int length : lengths) {
+            DeltaPress x = new DeltaPress();
+            Checks.putBase(x, Checks.repeat(length, 'b'));
+            Checks.put(x, 'x');
+            x.make();
+            CHECKS.dueOutput("6: BASE of " + length, x, Checks.join(Checks.number(length), new int[] {1, 1, 'x'}));
+        }
+        DeltaPress x = new DeltaPress();
+        Checks.putLong(x, Checks.text("abcdefgh"), 16384);
+        x.base();
+        x.make();
+        CHECKS.dueOutput("6: BASE of 16384", x, 128, 128, 1, 0);
+    }
+
+    private static void makeNew() {
+        int[] lengths = {1, 126, 127, 128, 254, 255};
+        for (int length : lengths) {
+            DeltaPress x = new DeltaPress();
+            int[] bytes = new int[length];
+            for (int i = 0; i < length; i++) {
+                bytes[i] = i * 7 & 255;
+            }
+            Checks.put(x, bytes);
+            int[] want = Checks.join(new int[] {0}, Checks.number(length));
+            for (int from = 0; from < length; from += 127) {
+                int to = Math.min(length, from + 127);
+                want = Checks.join(want, new int[] {to - from}, java.util.Arrays.copyOfRange(bytes, from, to));
+            }
+            CHECKS.due("6: length with " + length + " NEW", x.make(), want.length);
+            CHECKS.dueOutput("6: " + length + " NEW", x, want);
+            CHECKS.due("6: COPIES", x.count(3), 0);
+            CHECKS.due("6: NEW", x.count(4), length);
+            CHECKS.due("6: INPUT stays", x.count(0), length);
+        }
+    }
+
+    private static void makeCopies() {
+        DeltaPress x = new DeltaPress();
+        Checks.putBase(x, Checks.text("01234567"));
+        Checks.put(x, Checks.text("1234567"));
+        x.make();
+        CHECKS.dueOutput("6: 7 are no COPY", x, Checks.join(new int[] {8, 7, 7}, Checks.text("1234567")));
+        Checks.put(x, Checks.text("01234567"));
+        x.make();
+        CHECKS.dueOutput("6: 8 are a COPY, place 0 has no BYTE", x, 8, 8, 144, 8);
+        Checks.put(x, Checks.text("?0123456701234567!!01234567"));
+        x.make();
+        CHECKS.dueOutput("6: rows of NEW between COPIES", x, 8, 27, 1, '?', 144, 8, 144, 8, 2, '!', '!', 144, 8);
+        CHECKS.due("6: COPIES", x.count(3), 3);
+        CHECKS.due("6: NEW", x.count(4), 3);
+        CHECKS.due("6: BASE stays", x.count(1), 8);
+        copyOfBytes();
+        CHECKS.due("6: greedy, not the best", greedy(), 16);
+    }
+
+    private static void copyOfBytes() {
+        DeltaPress x = new DeltaPress();
+        int[] far = new int[600];
+        for (int i = 0; i < far.length; i++) {
+            far[i] = i * i / 7 + i / 256 * 3 & 255;
+        }
+        Checks.putBase(x, far);
+        Checks.put(x, java.util.Arrays.copyOfRange(far, 256, 512));
+        x.make();
+        CHECKS.dueOutput("6: place 256, length 256", x, 216, 4, 128, 2, 162, 1, 1);
+        Checks.put(x, java.util.Arrays.copyOfRange(far, 300, 312));
+        x.make();
+        CHECKS.dueOutput("6: place 300, length 12", x, 216, 4, 12, 147, 44, 1, 12);
+        Checks.put(x, java.util.Arrays.copyOfRange(far, 5, 505));
+        x.make();
+        CHECKS.dueOutput("6: place 5, length 500", x, 216, 4, 244, 3, 177, 5, 244, 1);
+    }
+
+    /** The first COPY takes 8 letters, though one NEW letter before a longer COPY would be shorter. */
+    private static int greedy() {
+        DeltaPress x = new DeltaPress();
+        Checks.putBase(x, Checks.text("abcdefgh-bcdefghijklmnop"));
+        Checks.put(x, Checks.text("abcdefghijklmnop"));
+        x.make();
+        CHECKS.dueOutput("6: greedy", x, 24, 16, 144, 8, 145, 16, 8);
+        return x.count(0);
+    }
+
+    private static void dueUse(String what, DeltaPress x, int[] delta, int... want) {
+        Checks.put(x, delta);
+        int inBase = x.count(1);
+        CHECKS.due("7: " + what, Checks.outcome(x::use), Integer.toString(want.length));
+        CHECKS.dueOutput("7: OUTPUT of " + what, x, want);
+        CHECKS.due("7: INPUT stays", x.count(0), delta.length);
+        CHECKS.due("7: BASE stays", x.count(1), inBase);
+        CHECKS.due("7: not DAMAGED", x.count(5), 0);
+    }
+
+    private static int[] row(int... bytes) {
+        return bytes;
+    }
+
+    private static void useSound() {
+        DeltaPress x = new DeltaPress();
+        dueUse("nothing", x, row(0, 0));
+        dueUse("numbers with BYTES of 128", x, row(128, 128, 128, 0, 129, 128, 128, 0, 1, 65), 65);
+        dueUse("rows of NEW apart", x, row(0, 3, 1, 65, 2, 0, 255), 65, 0, 255);
+        dueUse("127 NEW", x, Checks.join(row(0, 127, 127), Checks.repeat(127, 9)), Checks.repeat(127, 9));
+        Checks.putBase(x, Checks.text("abcdefghij"));
+        dueUse("a COPY of 1", x, row(10, 1, 145, 9, 1), 'j');
+        dueUse("a COPY of all", x, row(10, 10, 144, 10), Checks.text("abcdefghij"));
+        dueUse("all BYTES of a COPY", x, row(10, 3, 255, 2, 0, 0, 0, 3, 0, 0), 'c', 'd', 'e');
+        dueUse("COPIES backwards", x, row(138, 128, 128, 0, 5, 145, 8, 2, 1, '-', 144, 2), 'i', 'j', '-', 'a', 'b');
+        DeltaPress y = new DeltaPress();
+        Checks.putLong(y, Checks.text("abcdefgh"), 65536);
+        y.base();
+        Checks.put(y, 128, 128, 4, 128, 128, 4, 128);
+        CHECKS.due("7: a length of 0 without BYTES", Checks.outcome(y::use), "65536");
+        Checks.put(y, 128, 128, 4, 128, 128, 4, 240, 0, 0, 0);
+        CHECKS.due("7: a length of 0 with BYTES", Checks.outcome(y::use), "65536");
+        Checks.put(y, 128, 128, 4, 128, 128, 4, 192, 1);
+        CHECKS.due("7: a third BYTE of length", Checks.outcome(y::use), "65536");
+        Checks.put(y, 128, 128, 4, 255, 255, 3, 179, 1, 0, 255, 255);
+        CHECKS.due("7: 65535 from 1 on", Checks.outcome(y::use), "65535");
+        CHECKS.due("7: its last BYTE", y.letter(65534), 'h');
+        Checks.put(y, 128, 128, 4, 1, 147, 255, 255, 1);
+        CHECKS.due("7: the last BYTE of BASE", Checks.outcome(y::use), "1");
+        CHECKS.due("7: is this", y.letter(0), 'h');
+    }
+
+    private static void dueDamaged(String what, DeltaPress x, int... delta) {
+        Checks.put(x, delta);
+        int before = x.count(5);
+        String output = java.util.Arrays.toString(Checks.output(x));
+        CHECKS.dueThrow("7: " + what, DAMAGED, x::use);
+        CHECKS.due("7: counted: " + what, x.count(5), before + 1);
+        CHECKS.due("7: OUTPUT stays: " + what, java.util.Arrays.toString(Checks.output(x)), output);
+        CHECKS.due("7: INPUT stays: " + what, x.count(0), delta.length);
+        CHECKS.due("7: BASE stays: " + what, x.count(1), 10);
+    }
+
+    private static DeltaPress withBaseAndOutput() {
+        DeltaPress x = new DeltaPress();
+        Checks.putBase(x, Checks.text("abcdefghij"));
+        Checks.put(x, 10, 2, 1, 'x', 144, 1);
+        x.use();
+        return x;
+    }
+
+    private static void useDamagedNumbers() {
+        DeltaPress x = withBaseAndOutput();
+        dueDamaged("nothing at all", x);
+        dueDamaged("one number", x, 10);
+        dueDamaged("half a number", x, 138);
+        dueDamaged("half a second number", x, 10, 128);
+        dueDamaged("five BYTES of a number", x, 138, 128, 128, 128, 0, 1, 1, 65);
+        dueDamaged("five BYTES of the second", x, 10, 129, 128, 128, 128, 0, 1, 65);
+        dueDamaged("another BASE", x, 9, 1, 1, 65);
+        dueDamaged("another BASE, high bits", x, 138, 1, 1, 1, 65);
+        dueDamaged("another BASE, highest bits", x, 138, 128, 128, 1, 1, 1, 65);
+        dueDamaged("a longer BASE", x, 11, 1, 1, 65);
+        dueDamaged("65537", x, 10, 129, 128, 4);
+        dueDamaged("the greatest number", x, 10, 255, 255, 255, 127);
+        dueDamaged("65536 that are not made", x, 10, 128, 128, 4);
+    }
+
+    private static void useDamagedSteps() {
+        DeltaPress x = withBaseAndOutput();
+        dueDamaged("BYTE 0", x, 10, 0, 0);
+        dueDamaged("BYTE 0 behind NEW", x, 10, 1, 1, 65, 0);
+        dueDamaged("BYTE 0 before NEW", x, 10, 1, 0, 1, 65);
+        dueDamaged("too few NEW", x, 10, 3, 3, 65, 66);
+        dueDamaged("no NEW behind how many", x, 10, 1, 1);
+        dueDamaged("makes too few", x, 10, 3, 2, 65, 66);
+        dueDamaged("makes too many", x, 10, 1, 2, 65, 66);
+        dueDamaged("one more NEW at the end", x, 10, 1, 1, 65, 1, 66);
+        dueDamaged("one more COPY at the end", x, 10, 1, 1, 65, 144, 1);
+        dueDamaged("makes nothing of 1", x, 10, 1);
+        dueDamaged("COPY makes too few", x, 10, 5, 144, 4);
+        dueDamaged("COPY makes too many", x, 10, 5, 144, 6);
+        dueDamaged("COPY over the end of BASE", x, 10, 5, 145, 6, 5);
+        dueDamaged("COPY longer than BASE", x, 10, 11, 144, 11);
+        dueDamaged("COPY behind BASE", x, 10, 1, 145, 10, 1);
+        dueDamaged("COPY of 65536", x, 10, 10, 128);
+        dueDamaged("COPY of 65536 from 1 on", x, 10, 9, 129, 1);
+        dueDamaged("second BYTE of the place", x, 10, 1, 146, 1, 1);
+        dueDamaged("third BYTE of the place", x, 10, 1, 148, 1, 1);
+        dueDamaged("fourth BYTE of the place", x, 10, 1, 152, 1, 1);
+        dueDamaged("place with the highest bit", x, 10, 1, 152, 128, 1);
+        dueDamaged("the greatest place", x, 10, 1, 159, 255, 255, 255, 255, 1);
+        dueDamaged("second BYTE of the length", x, 10, 1, 176, 1, 1);
+        dueDamaged("third BYTE of the length", x, 10, 1, 208, 1, 1);
+        dueDamaged("the greatest length", x, 10, 1, 240, 255, 255, 255);
+        dueDamaged("no BYTE of the length", x, 10, 1, 144);
+        dueDamaged("no BYTE of the place", x, 10, 1, 145);
+        dueDamaged("place, but no length", x, 10, 1, 145, 1);
+        dueDamaged("two of three BYTES of length", x, 10, 1, 240, 1, 0);
+        CHECKS.due("7: refused ones leave what make counted", x.count(3), 0);
+    }
+
+    private static void turn() {
+        DeltaPress x = new DeltaPress();
+        Checks.put(x, Checks.text("text"));
+        x.make();
+        CHECKS.due("8: turn", x.turn(), 7);
+        CHECKS.due("8: INPUT is as long", x.count(0), 7);
+        CHECKS.due("8: OUTPUT stays", x.count(2), 7);
+        x.change(3, 1);
+        CHECKS.dueOutput("8: OUTPUT is another row", x, 0, 4, 4, 't', 'e', 'x', 't');
+        x.use();
+        CHECKS.dueOutput("8: INPUT was OUTPUT", x, 'u', 'e', 'x', 't');
+        DeltaPress full = new DeltaPress();
+        Checks.putLong(full, Checks.text("abcdefgh"), 65536);
+        CHECKS.due("8: turn of 65536", full.turn(), 65536);
+        full.base();
+        full.base();
+        full.turn();
+        full.end(518);
+        CHECKS.due("8: DELTA of 65018", full.make(), 65018 + 512 + 4);
+        CHECKS.due("8: turn of less", full.turn(), 65534);
+        full.end(65534);
+        Checks.putLong(full, Checks.text("abcdefgh"), 65536);
+        full.base();
+        full.base();
+        full.turn();
+        full.end(516);
+        CHECKS.due("8: DELTA of 65020", full.make(), 65020 + 512 + 4);
+        CHECKS.due("8: turn of as many as go", full.turn(), 65536);
+        Checks.putLong(full, Checks.text("abcdefgh"), 65021);
+        full.base();
+        full.base();
+        full.turn();
+        CHECKS.due("8: DELTA of 65021", full.make(), 65537);
+        CHECKS.dueThrow("8: turn of one too many", STATE, full::turn);
+        CHECKS.due("8: refused turn leaves INPUT", full.count(0), 65021);
+        CHECKS.due("8: refused turn leaves OUTPUT", full.count(2), 65537);
+        DeltaPress none = new DeltaPress();
+        Checks.put(none, Checks.text("gone"));
+        CHECKS.due("8: turn of nothing", none.turn(), 0);
+        CHECKS.due("8: INPUT is nothing", none.count(0), 0);
+    }
+
+    private static void longest() {
+        DeltaPress x = new DeltaPress();
+        CHECKS.dueThrow("9: longest in nothing", BAD, () -> x.longest(0, 0));
+        Checks.putBase(x, Checks.text("xxabcdefghyabcdefghizabcdefghi"));
+        Checks.put(x, Checks.text("abcdefghiz-abcdefgh"));
+        CHECKS.due("9: length", x.longest(0, 0), 10);
+        CHECKS.due("9: place", x.longest(0, 1), 11);
+        CHECKS.due("9: length to the end of INPUT", x.longest(11, 0), 8);
+        CHECKS.due("9: the least place", x.longest(11, 1), 2);
+        CHECKS.due("9: length below 8", x.longest(3, 0), 0);
+        CHECKS.due("9: place below 8", x.longest(3, 1), -1);
+        CHECKS.due("9: of the last BYTE", x.longest(18, 0), 0);
+        CHECKS.due("9: just 8", x.longest(2, 0), 8);
+        CHECKS.due("9: place of just 8", x.longest(2, 1), 13);
+        CHECKS.dueThrow("9: longest(-1, 0)", BAD, () -> x.longest(-1, 0));
+        CHECKS.dueThrow("9: longest(19, 0) of 19", BAD, () -> x.longest(19, 0));
+        CHECKS.dueThrow("9: longest(0, -1)", BAD, () -> x.longest(0, -1));
+        CHECKS.dueThrow("9: longest(0, 2)", BAD, () -> x.longest(0, 2));
+        x.change(5, 1);
+        CHECKS.due("9: after a change", x.longest(0, 0), 0);
+        CHECKS.due("9: changes no OUTPUT", x.count(2), 0);
+        CHECKS.due("9: counts no COPIES", x.count(3), 0);
+        DeltaPress full = new DeltaPress();
+        Checks.putLong(full, Checks.text("abcdefgh"), 65536);
+        full.base();
+        full.turn();
+        CHECKS.due("9: at most 65535", full.longest(0, 0), 65535);
+        CHECKS.due("9: at place 0", full.longest(0, 1), 0);
+        CHECKS.due("9: 65535 from 1 on", full.longest(1, 0), 65535);
+        CHECKS.due("9: at place 1", full.longest(1, 1), 1);
+        CHECKS.due("9: 8 at the end", full.longest(65528, 0), 8);
+        CHECKS.due("9: 7 at the end", full.longest(65529, 0), 0);
+        CHECKS.due("9: make of 65536", full.make(), 11);
+        CHECKS.dueOutput("9: DELTA with the longest COPY", full, 128, 128, 4, 128, 128, 4, 176, 255, 255, 1, 'h');
+    }
+
+    private static void letter() {
+        DeltaPress x = new DeltaPress();
+        CHECKS.dueThrow("10: letter(0) of nothing", OUTSIDE, () -> x.letter(0));
+        Checks.put(x, 0, 127, 128, 255);
+        x.make();
+        CHECKS.due("10: first", x.letter(0), 0);
+        CHECKS.due("10: 0", x.letter(3), 0);
+        CHECKS.due("10: 127", x.letter(4), 127);
+        CHECKS.due("10: 128", x.letter(5), 128);
+        CHECKS.due("10: 255", x.letter(6), 255);
+        CHECKS.dueThrow("10: letter(7) of 7", OUTSIDE, () -> x.letter(7));
+        CHECKS.dueThrow("10: letter(-1)", OUTSIDE, () -> x.letter(-1));
+        CHECKS.dueThrow("10: letter(least)", OUTSIDE, () -> x.letter(Integer.MIN_VALUE));
+        x.end(4);
+        x.make();
+        CHECKS.dueThrow("10: letter of what was there before", OUTSIDE, () -> x.letter(2));
+    }
+
+    private static void count() {
+        DeltaPress x = new DeltaPress();
+        int[] others = {-1, 6, 7, Integer.MIN_VALUE, Integer.MAX_VALUE};
+        for (int what : others) {
+            CHECKS.due("11: count(" + what + ")", x.count(what), -1);
+        }
+        Checks.putBase(x, Checks.text("twelve bytes"));
+        Checks.put(x, Checks.text("twelve bytes and eight"));
+        x.make();
+        CHECKS.due("11: INPUT", x.count(0), 22);
+        CHECKS.due("11: BASE", x.count(1), 12);
+        CHECKS.due("11: OUTPUT", x.count(2), 15);
+        CHECKS.due("11: COPIES", x.count(3), 1);
+        CHECKS.due("11: NEW", x.count(4), 10);
+        CHECKS.dueThrow("11: a text is no DELTA", DAMAGED, x::use);
+        CHECKS.dueThrow("11: nor the second time", DAMAGED, x::use);
+        CHECKS.due("11: DAMAGED", x.count(5), 2);
+        x.turn();
+        x.use();
+        x.base();
+        CHECKS.due("11: COPIES of the latest make", x.count(3), 1);
+        CHECKS.due("11: NEW of the latest make", x.count(4), 10);
+        CHECKS.due("11: DAMAGED stays", x.count(5), 2);
+        x.make();
+        CHECKS.due("11: COPIES of an empty make", x.count(3), 0);
+        CHECKS.due("11: NEW of an empty make", x.count(4), 0);
+    }
+}
