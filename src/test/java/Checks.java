@@ -42,18 +42,33 @@ final class Checks {
     /** Sets INPUT to these BYTES. */
     static void put(DeltaPress x, int... bytes) {
         x.end(x.count(0));
-        add(x, bytes);
+        int whole = bytes.length / 20 * 20;
+        for (int from = 0; from < whole; from += 20) {
+            feedFrom(x, bytes, from);
+        }
+        int rest = bytes.length - whole;
+        if (rest > 0 && whole > 0) {
+            // The last twenty overlap those before: there may be no room for twenty more.
+            x.end(20 - rest);
+            feedFrom(x, bytes, bytes.length - 20);
+        } else if (rest > 0) {
+            feedFrom(x, bytes, 0);
+            x.end(20 - rest);
+        }
     }
 
-    static void add(DeltaPress x, int... bytes) {
-        for (int from = 0; from < bytes.length; from += 20) {
-            int[] numbers = new int[5];
-            for (int k = 0; k < 20 && from + k < bytes.length; k++) {
-                numbers[k / 4] |= bytes[from + k] << 24 - 8 * (k % 4);
-            }
-            x.feed(numbers[0], numbers[1], numbers[2], numbers[3], numbers[4]);
+    private static void feedFrom(DeltaPress x, int[] bytes, int from) {
+        int[] n = numbers(bytes, from);
+        x.feed(n[0], n[1], n[2], n[3], n[4]);
+    }
+
+    /** Twenty BYTES as feed takes them, with 0 behind the last one. */
+    static int[] numbers(int[] bytes, int from) {
+        int[] numbers = new int[5];
+        for (int k = 0; k < 20 && from + k < bytes.length; k++) {
+            numbers[k / 4] |= bytes[from + k] << 24 - 8 * (k % 4);
         }
-        x.end((20 - bytes.length % 20) % 20);
+        return numbers;
     }
 
     static void putBase(DeltaPress x, int... bytes) {
@@ -107,7 +122,7 @@ final class Checks {
         due(what, java.util.Arrays.toString(output(x)), java.util.Arrays.toString(want));
     }
 
-    /** INPUT and BASE become this text, by a reading: far fewer calls than by feeding. OUTPUT is lost. */
+    /** INPUT and OUTPUT become the period again and again, by a reading: far fewer calls than by feeding. */
     static void putLong(DeltaPress x, int[] period, int length) {
         putBase(x, period);
         int[] delta = join(number(period.length), number(length));
