@@ -186,7 +186,7 @@ public final class DeltaPress {
         return bits;
     }
 
-    /** A row of BYTES that keeps its room when it is emptied, so that calls without number make no rows without number. */
+    /** A row of BYTES that keeps its room when it is emptied, so that many calls don't make many rows. */
     private static final class Text {
         private static final int FIRST_ROOM = 64;
 
@@ -276,8 +276,9 @@ public final class DeltaPress {
      * Ukkonen's suffix tree of BASE: whatever stands in BASE is a way down from the root, so a LONGEST costs
      * as many steps as it is long, however often BASE repeats itself.
      *
-     * A node stands for the label on the edge from its parent: BASE from start to end. When an edge is split, its upper
-     * part keeps its start, and a later leaf never moves it: so a label always lies at the least place for its way down.
+     * A node stands for the label on the edge from its parent: BASE from start to end. When an edge is split, its
+     * upper part keeps its start, and a later leaf never moves it: so a label always lies where its way down stands
+     * first in BASE.
      */
     private static final class SuffixTree {
         private static final int ROOT = 0;
@@ -323,7 +324,7 @@ public final class DeltaPress {
             length = whole.size();
             makeRoom(length);
             Arrays.fill(slots, NO_CHILD);
-            slotShift = 1 + Integer.numberOfLeadingZeros(slots.length);
+            slotShift = 32 - Integer.bitCount(slots.length - 1);
             nodes = 1;
             activeNode = ROOT;
             activeLength = 0;
@@ -513,9 +514,10 @@ public final class DeltaPress {
                 many = MOST_BYTES;
             }
             // A place of 2 to the 31st or more comes as a negative number and is as far outside.
-            if (from < 0 || many < 0 || many > source.size() || from > source.size() - many) {
+            if (from < 0 || many < 0 || from > source.size() - many) {
                 return false;
             }
+            // Looked at before it is made: a few BYTES of COPIES could make more than any room holds.
             if (many > due - made.size()) {
                 return false;
             }

@@ -10,6 +10,7 @@ public final class LimitsTest {
     public static void main(String[] args) {
         longTexts();
         manyCallsMakeNothing();
+        damagedMakesNothing();
         smallObjectsAreSmall();
         CHECKS.finish();
     }
@@ -159,6 +160,17 @@ public final class LimitsTest {
         x.end(13);
         x.use();
         x.turn();
+    }
+
+    /** Two hundred BYTES, each a COPY of 65536. */
+    private static void damagedMakesNothing() {
+        DeltaPress x = new DeltaPress();
+        Checks.putLong(x, Checks.text("abcdefgh"), MOST);
+        x.base();
+        Checks.put(x, Checks.join(Checks.number(MOST), Checks.number(MOST), Checks.repeat(200, 128)));
+        long before = bytesMade();
+        CHECKS.dueThrow("too many COPIES", ArithmeticException.class, x::use);
+        CHECKS.due("they are not made", bytesMade() - before < 1_000_000 ? 1 : 0, 1);
     }
 
     private static void smallObjectsAreSmall() {

@@ -175,7 +175,7 @@ public final class ModelTest {
     }
 
     private int[] copy(int place, int length) {
-        int[] bytes = {place & 255, place >>> 8 & 255, place >>> 16, 0, length & 255, length >>> 8 & 255, length >>> 16};
+        int[] bytes = {place & 255, place >>> 8, 0, 0, length & 255, length >>> 8, 0};
         int[] copy = {128};
         for (int bit = 0; bit < bytes.length; bit++) {
             if (bytes[bit] != 0 || random.nextInt(5) == 0) {

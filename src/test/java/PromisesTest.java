@@ -18,6 +18,7 @@ public final class PromisesTest {
         useSound();
         useDamagedNumbers();
         useDamagedSteps();
+        useDamagedOnLongBase();
         turn();
         longest();
         letter();
@@ -314,6 +315,23 @@ public final class PromisesTest {
         CHECKS.due("7: refused ones leave what make counted", x.count(3), 0);
     }
 
+    /** Where a COPY of 65536 would fit, so that only what is missing or too much is DAMAGED. */
+    private static void useDamagedOnLongBase() {
+        DeltaPress x = new DeltaPress();
+        Checks.putLong(x, Checks.text("abcdefgh"), 65536);
+        x.base();
+        int[] whole = {128, 128, 4, 128, 128, 4};
+        int[][] wrong = {{129}, {144}, {176, 0}, {240, 0, 0}, {128, 128}, {128, 1, 65}, {1, 65, 128}, {129, 1}, {}};
+        for (int[] steps : wrong) {
+            Checks.put(x, Checks.join(whole, steps));
+            CHECKS.dueThrow("7: 65536 by " + java.util.Arrays.toString(steps), DAMAGED, x::use);
+        }
+        Checks.put(x, 128, 128, 4, 129, 128, 4, 128, 1, 65);
+        CHECKS.dueThrow("7: 65537 that are made", DAMAGED, x::use);
+        CHECKS.due("7: all were DAMAGED", x.count(5), wrong.length + 1);
+        CHECKS.due("7: OUTPUT stays", x.count(2), 65536);
+    }
+
     private static void turn() {
         DeltaPress x = new DeltaPress();
         Checks.put(x, Checks.text("text"));
@@ -328,25 +346,11 @@ public final class PromisesTest {
         DeltaPress full = new DeltaPress();
         Checks.putLong(full, Checks.text("abcdefgh"), 65536);
         CHECKS.due("8: turn of 65536", full.turn(), 65536);
-        full.base();
-        full.base();
-        full.turn();
-        full.end(518);
-        CHECKS.due("8: DELTA of 65018", full.make(), 65018 + 512 + 4);
-        CHECKS.due("8: turn of less", full.turn(), 65534);
-        full.end(65534);
-        Checks.putLong(full, Checks.text("abcdefgh"), 65536);
-        full.base();
-        full.base();
-        full.turn();
-        full.end(516);
-        CHECKS.due("8: DELTA of 65020", full.make(), 65020 + 512 + 4);
+        makeAllNew(full, 65018);
+        CHECKS.due("8: turn of two less than go", full.turn(), 65534);
+        makeAllNew(full, 65020);
         CHECKS.due("8: turn of as many as go", full.turn(), 65536);
-        Checks.putLong(full, Checks.text("abcdefgh"), 65021);
-        full.base();
-        full.base();
-        full.turn();
-        CHECKS.due("8: DELTA of 65021", full.make(), 65537);
+        makeAllNew(full, 65021);
         CHECKS.dueThrow("8: turn of one too many", STATE, full::turn);
         CHECKS.due("8: refused turn leaves INPUT", full.count(0), 65021);
         CHECKS.due("8: refused turn leaves OUTPUT", full.count(2), 65537);
@@ -354,6 +358,15 @@ public final class PromisesTest {
         Checks.put(none, Checks.text("gone"));
         CHECKS.due("8: turn of nothing", none.turn(), 0);
         CHECKS.due("8: INPUT is nothing", none.count(0), 0);
+    }
+
+    /** OUTPUT is the DELTA of a text of so many BYTES on nothing: 512 rows of NEW. */
+    private static void makeAllNew(DeltaPress x, int length) {
+        Checks.putLong(x, Checks.text("abcdefgh"), length);
+        x.base();
+        x.base();
+        x.turn();
+        CHECKS.due("8: DELTA of " + length, x.make(), length + 512 + 4);
     }
 
     private static void longest() {
