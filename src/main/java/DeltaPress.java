@@ -1,5 +1,3 @@
-import java.util.Arrays;
-
 /**
  * Deltas of texts: a text as copies from another one and what is new; made in one way, read in every way.
  * The words INPUT, BASE, OUTPUT, LONGEST, DELTA, COPY, NEW and DAMAGED are those of the document.
@@ -10,12 +8,18 @@ public final class DeltaPress {
     private static final int LEAST_COPY = 8;
     private static final int MOST_COPY = 65535;
     private static final int MOST_NEW = 127;
+    /**
+     * Two lengths of 3 BYTES, and all BYTES NEW. No COPY makes it longer: it has at most 5 BYTES, parts one row of NEW
+     * ones into two, which is one BYTE more, and stands for 8 or more.
+     */
+    private static final int MOST_DELTA = 3 + 3 + MOST_BYTES + (MOST_BYTES + MOST_NEW - 1) / MOST_NEW;
 
-    private Text input = new Text();
-    private Text base = new Text();
-    private Text output = new Text();
+    // Every row is made here, with the object, and as long as it may ever be: no call makes one.
+    private Text input = new Text(MOST_BYTES);
+    private Text base = new Text(MOST_BYTES);
+    private Text output = new Text(MOST_DELTA);
     /** A reading is made here and becomes OUTPUT only when it is whole: what is refused changes nothing. */
-    private Text spare = new Text();
+    private Text spare = new Text(MOST_DELTA);
     private final SuffixTree tree = new SuffixTree();
     /** The tree is grown only when a LONGEST is asked for, and kept until BASE is another one. */
     private boolean treeIsOfBase = false;
@@ -186,12 +190,14 @@ public final class DeltaPress {
         return bits;
     }
 
-    /** A row of BYTES that keeps its room when it is emptied, so that many calls don't make many rows. */
+    /** A row of BYTES whose room is made with it and never grows: whoever adds BYTES knows that they find room. */
     private static final class Text {
-        private static final int FIRST_ROOM = 64;
-
-        private byte[] bytes = new byte[FIRST_ROOM];
+        private final byte[] bytes;
         private int length = 0;
+
+        Text(int room) {
+            bytes = new byte[room];
+        }
 
         int size() {
             return length;
@@ -219,7 +225,6 @@ public final class DeltaPress {
         }
 
         void add(int letter) {
-            makeRoom(length + 1);
             bytes[length] = (byte) letter;
             length++;
         }
@@ -250,26 +255,9 @@ public final class DeltaPress {
         }
 
         void addPart(Text from, int place, int many) {
-            makeRoom(length + many);
             System.arraycopy(from.bytes, place, bytes, length, many);
             length += many;
         }
-
-        /** Doubling keeps all the rows that one text ever has below twice its last one. */
-        private void makeRoom(int needed) {
-            if (needed > bytes.length) {
-                bytes = Arrays.copyOf(bytes, roomFor(bytes.length, needed));
-            }
-        }
-    }
-
-    /** The least doubling of a room, itself a power of two, that holds what is needed. */
-    private static int roomFor(int room, int needed) {
-        int next = room;
-        for (int k = 0; k < 30 && next < needed; k++) {
-            next *= 2;
-        }
-        return next;
     }
 
     /**
@@ -284,22 +272,24 @@ public final class DeltaPress {
         private static final int ROOT = 0;
         /** The root is nobody's child, so its number is free to say that there is none. */
         private static final int NO_CHILD = 0;
-        private static final int FIRST_ROOM = 16;
+        /** At most as many leaves as letters, and fewer inner nodes than leaves. */
+        private static final int MOST_NODES = 2 * MOST_BYTES;
         /** 2 to the 32nd through the golden ratio, made odd: it sends neighbours far apart. */
         private static final int SPREAD = 0x9E3779B1;
 
         private byte[] text = new byte[0];
         private int length = 0;
 
-        private int room = FIRST_ROOM;
-        private int[] start = new int[2 * FIRST_ROOM];
-        private int[] end = new int[2 * FIRST_ROOM];
-        private int[] parent = new int[2 * FIRST_ROOM];
-        private int[] link = new int[2 * FIRST_ROOM];
+        private final int[] start = new int[MOST_NODES];
+        private final int[] end = new int[MOST_NODES];
+        private final int[] parent = new int[MOST_NODES];
+        private final int[] link = new int[MOST_NODES];
         private int nodes = 1;
 
-        /** The children of all nodes, hashed by parent and first letter, at most half full. */
-        private int[] slots = new int[4 * FIRST_ROOM];
+        /** The children of all nodes, hashed by parent and first letter. */
+        private final int[] slots = new int[2 * MOST_NODES];
+        /** A power of two, so many that they are at most half full: a short BASE needn't empty all of them. */
+        private int slotsUsed = 0;
         private int slotShift = 0;
 
         /** Where the longest suffix that is no leaf yet ends: so many letters below this node. */
@@ -322,9 +312,7 @@ public final class DeltaPress {
         void grow(Text whole) {
             text = whole.row();
             length = whole.size();
-            makeRoom(length);
-            Arrays.fill(slots, NO_CHILD);
-            slotShift = 32 - Integer.bitCount(slots.length - 1);
+            emptySlots();
             nodes = 1;
             activeNode = ROOT;
             activeLength = 0;
@@ -334,15 +322,11 @@ public final class DeltaPress {
             }
         }
 
-        /** At most as many leaves as letters, and fewer inner nodes than leaves. */
-        private void makeRoom(int letters) {
-            if (letters > room) {
-                room = roomFor(room, letters);
-                start = new int[2 * room];
-                end = new int[2 * room];
-                parent = new int[2 * room];
-                link = new int[2 * room];
-                slots = new int[4 * room];
+        private void emptySlots() {
+            slotsUsed = 8 * Integer.highestOneBit(Math.max(length, 2) - 1);
+            slotShift = 32 - Integer.bitCount(slotsUsed - 1);
+            for (int slot = 0; slot < slotsUsed; slot++) {
+                slots[slot] = NO_CHILD;
             }
         }
 
@@ -419,12 +403,12 @@ public final class DeltaPress {
         /** The slot of the child, or the empty one where it would be. */
         private int slotOf(int above, byte letter) {
             int slot = ((above << 8 | letter & 255) * SPREAD) >>> slotShift;
-            for (int step = 0; step < slots.length; step++) {
+            for (int step = 0; step < slotsUsed; step++) {
                 int child = slots[slot];
                 if (child == NO_CHILD || parent[child] == above && text[start[child]] == letter) {
                     break;
                 }
-                slot = slot + 1 & slots.length - 1;
+                slot = slot + 1 & slotsUsed - 1;
             }
             return slot;
         }

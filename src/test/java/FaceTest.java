@@ -94,7 +94,7 @@ public final class FaceTest {
             CHECKS.due("the class has no " + pattern, Pattern.compile(pattern).matcher(code).find() ? 1 : 0, 0);
         }
         String imports = code.lines().filter(line -> line.startsWith("import")).toList().toString();
-        CHECKS.due("4: the imports", imports, "[import java.util.Arrays;]");
+        CHECKS.due("4: the imports", imports, "[]");
         CHECKS.due("no package", code.contains("package ") ? 1 : 0, 0);
     }
 }

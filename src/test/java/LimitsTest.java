@@ -1,17 +1,14 @@
-import java.lang.management.ManagementFactory;
 import java.util.Arrays;
 import java.util.Random;
 
-/** Texts as long as they may be that repeat themselves in every way, and what an object makes in its life. */
+/** Texts as long as they may be that repeat themselves in every way, and the longest DELTA. */
 public final class LimitsTest {
     private static final Checks CHECKS = new Checks();
     private static final int MOST = 65536;
 
     public static void main(String[] args) {
         longTexts();
-        manyCallsMakeNothing();
-        damagedMakesNothing();
-        smallObjectsAreSmall();
+        longestDelta();
         CHECKS.finish();
     }
 
@@ -95,6 +92,21 @@ public final class LimitsTest {
         CHECKS.due(what + ": BASE stays", x.count(1), base.length);
     }
 
+    /** Nothing of INPUT stands in BASE: two lengths of 3 BYTES, 517 rows of NEW ones. */
+    private static void longestDelta() {
+        DeltaPress x = new DeltaPress();
+        Checks.putLong(x, Checks.repeat(100, 'a'), MOST);
+        x.base();
+        int[] text = Checks.repeat(MOST, 'b');
+        Checks.put(x, text);
+        CHECKS.due("make, all NEW", Checks.outcome(x::make), "66059");
+        CHECKS.due("NEW BYTES", x.count(4), MOST);
+        CHECKS.due("the last row's head", x.letter(66059 - 5), 4);
+        CHECKS.due("the last BYTE", x.letter(66059 - 1), 'b');
+        CHECKS.dueThrow("turn, all NEW", IllegalStateException.class, x::turn);
+        CHECKS.due("INPUT stays", x.count(0), MOST);
+    }
+
     /** By Knuth, Morris and Pratt: how much of the text is a border at each place of BASE. */
     private static int[] longest(int[] base, int[] text, int from) {
         int[] wanted = Arrays.copyOfRange(text, from, Math.min(text.length, from + 65535));
@@ -117,72 +129,5 @@ public final class LimitsTest {
             }
         }
         return best;
-    }
-
-    private static long bytesMade() {
-        com.sun.management.ThreadMXBean threads =
-                (com.sun.management.ThreadMXBean) ManagementFactory.getThreadMXBean();
-        return threads.getThreadAllocatedBytes(Thread.currentThread().getId());
-    }
-
-    /** A run's calls share one room that nothing leaves: rows are made once and used again. */
-    private static void manyCallsMakeNothing() {
-        bytesMade();
-        long before = bytesMade();
-        DeltaPress x = new DeltaPress();
-        Checks.putLong(x, Checks.repeat(25, 1, 2, 3, 4, 5, 6, 7, 8), MOST);
-        everyRowIsLong(x);
-        everyRowIsLong(x);
-        long full = bytesMade();
-        for (int times = 0; times < 100; times++) {
-            everyRowIsLong(x);
-        }
-        long after = bytesMade();
-        CHECKS.due("the text is still there", x.count(0) + x.count(2), 2 * MOST);
-        CHECKS.due("an object of long texts is below 9 million bytes", full - before < 9_000_000 ? 1 : 0, 1);
-        CHECKS.due("later calls make next to nothing", after - full < 4_000 ? 1 : 0, 1);
-    }
-
-    /** INPUT and OUTPUT are the long text before and after; BASE, the tree and the spare row are long between. */
-    private static void everyRowIsLong(DeltaPress x) {
-        x.base();
-        x.turn();
-        x.make();
-        x.longest(0, 0);
-        x.turn();
-        x.use();
-        x.base();
-        x.base();
-        x.turn();
-        x.make();
-        x.base();
-        x.feed(0x80800480, 0x80048000, 0, 0, 0);
-        x.end(13);
-        x.use();
-        x.turn();
-    }
-
-    /** Two hundred BYTES, each a COPY of 65536. */
-    private static void damagedMakesNothing() {
-        DeltaPress x = new DeltaPress();
-        Checks.putLong(x, Checks.text("abcdefgh"), MOST);
-        x.base();
-        Checks.put(x, Checks.join(Checks.number(MOST), Checks.number(MOST), Checks.repeat(200, 128)));
-        long before = bytesMade();
-        CHECKS.dueThrow("too many COPIES", ArithmeticException.class, x::use);
-        CHECKS.due("they are not made", bytesMade() - before < 1_000_000 ? 1 : 0, 1);
-    }
-
-    private static void smallObjectsAreSmall() {
-        new DeltaPress().make();
-        long before = bytesMade();
-        for (int times = 0; times < 1000; times++) {
-            DeltaPress x = new DeltaPress();
-            x.feed(1, 2, 3, 4, 5);
-            x.base();
-            x.feed(1, 2, 3, 4, 5);
-            x.make();
-        }
-        CHECKS.due("1000 small objects are below 5 million bytes", bytesMade() - before < 5_000_000 ? 1 : 0, 1);
     }
 }
