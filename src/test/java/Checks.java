@@ -1,10 +1,23 @@
-/** What the tests share: the tally of wrong answers, and calls told in short words. */
+import java.util.ArrayList;
+import java.util.Arrays;
+import java.util.List;
+
+/** The tally of wrong answers, and what is due behind every refused call. */
 final class Checks {
+    /** One fault may make a whole long text wrong. */
+    private static final int MOST_TOLD = 100;
+
     private int wrong = 0;
     private int made = 0;
+    private String sentence = "";
 
     interface Call {
         long answer();
+    }
+
+    /** What follows is due by these words of the document; they stand before every wrong answer. */
+    void says(String words) {
+        sentence = words + ": ";
     }
 
     void due(String what, long got, long want) {
@@ -15,8 +28,15 @@ final class Checks {
         made++;
         if (!got.equals(want)) {
             wrong++;
-            System.out.println(what + " answered " + got + ", due is " + want);
+            if (wrong > MOST_TOLD) {
+                return;
+            }
+            System.out.println(sentence + what + " answered " + got + ", due is " + want);
         }
+    }
+
+    void due(String what, Call call, long want) {
+        due(what, outcome(call), Long.toString(want));
     }
 
     void dueThrow(String what, Class<? extends RuntimeException> want, Call call) {
@@ -39,99 +59,30 @@ final class Checks {
         }
     }
 
-    /** Sets INPUT to these BYTES. */
-    static void put(DeltaPress x, int... bytes) {
-        x.end(x.count(0));
-        int whole = bytes.length / 20 * 20;
-        for (int from = 0; from < whole; from += 20) {
-            feedFrom(x, bytes, from);
+    void dueOutput(String what, Run x, int... want) {
+        due("OUTPUT of " + what, Arrays.toString(x.output()), Arrays.toString(want));
+    }
+
+    /** The call throws this, and every answer of count, letter and longest is as before it. */
+    void dueRefused(String what, Class<? extends RuntimeException> want, Run x, Call call) {
+        Run.Answers before = x.answers();
+        dueThrow(what, want, call);
+        dueAnswers("behind refused " + what, x.answersAsTo(before), before.outcomes());
+    }
+
+    /** As dueRefused, but for count(5), which is one more. */
+    void dueDamaged(String what, Run x) {
+        Run.Answers before = x.answers();
+        dueThrow("use() of " + what, ArithmeticException.class, x::use);
+        List<String> want = new ArrayList<>(before.outcomes());
+        int counted = before.questions().indexOf(new Run.Question("count", 0, 5));
+        want.set(counted, Integer.toString(Integer.parseInt(want.get(counted)) + 1));
+        dueAnswers("behind DAMAGED " + what, x.answersAsTo(before), want);
+    }
+
+    void dueAnswers(String what, Run.Answers got, List<String> want) {
+        for (int k = 0; k < want.size(); k++) {
+            due(got.questions().get(k) + " " + what, got.outcomes().get(k), want.get(k));
         }
-        int rest = bytes.length - whole;
-        if (rest > 0 && whole > 0) {
-            // The last twenty overlap those before: there may be no room for twenty more.
-            x.end(20 - rest);
-            feedFrom(x, bytes, bytes.length - 20);
-        } else if (rest > 0) {
-            feedFrom(x, bytes, 0);
-            x.end(20 - rest);
-        }
-    }
-
-    private static void feedFrom(DeltaPress x, int[] bytes, int from) {
-        int[] n = numbers(bytes, from);
-        x.feed(n[0], n[1], n[2], n[3], n[4]);
-    }
-
-    /** Twenty BYTES as feed takes them, with 0 behind the last one. */
-    static int[] numbers(int[] bytes, int from) {
-        int[] numbers = new int[5];
-        for (int k = 0; k < 20 && from + k < bytes.length; k++) {
-            numbers[k / 4] |= bytes[from + k] << 24 - 8 * (k % 4);
-        }
-        return numbers;
-    }
-
-    static void putBase(DeltaPress x, int... bytes) {
-        put(x, bytes);
-        x.base();
-    }
-
-    static int[] text(String letters) {
-        return letters.chars().toArray();
-    }
-
-    static int[] join(int[]... parts) {
-        int length = 0;
-        for (int[] part : parts) {
-            length += part.length;
-        }
-        int[] all = new int[length];
-        int at = 0;
-        for (int[] part : parts) {
-            System.arraycopy(part, 0, all, at, part.length);
-            at += part.length;
-        }
-        return all;
-    }
-
-    static int[] repeat(int many, int... part) {
-        int[] all = new int[many * part.length];
-        for (int i = 0; i < all.length; i++) {
-            all[i] = part[i % part.length];
-        }
-        return all;
-    }
-
-    /** The number as a DELTA writes it. */
-    static int[] number(int number) {
-        if (number < 128) {
-            return new int[] {number};
-        }
-        return join(new int[] {number & 127 | 128}, number(number >>> 7));
-    }
-
-    static int[] output(DeltaPress x) {
-        int[] bytes = new int[x.count(2)];
-        for (int i = 0; i < bytes.length; i++) {
-            bytes[i] = x.letter(i);
-        }
-        return bytes;
-    }
-
-    void dueOutput(String what, DeltaPress x, int... want) {
-        due(what, java.util.Arrays.toString(output(x)), java.util.Arrays.toString(want));
-    }
-
-    /** INPUT and OUTPUT become the period again and again, by a reading: far fewer calls than by feeding. */
-    static void putLong(DeltaPress x, int[] period, int length) {
-        putBase(x, period);
-        int[] delta = join(number(period.length), number(length));
-        int whole = length / period.length;
-        int rest = length % period.length;
-        int[] copy = {128 | 16 | 32, period.length & 255, period.length >>> 8};
-        int[] last = rest == 0 ? new int[0] : new int[] {128 | 16 | 32, rest & 255, rest >>> 8};
-        put(x, join(delta, repeat(whole, copy), last));
-        x.use();
-        x.turn();
     }
 }

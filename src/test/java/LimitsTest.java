@@ -1,110 +1,167 @@
 import java.util.Arrays;
 import java.util.Random;
 
-/** Texts as long as they may be that repeat themselves in every way, and the longest DELTA. */
+/**
+ * Texts as long as they may be that repeat themselves in every way. An object has 512 calls, so they are not fed but
+ * made: BASE of a period or of pieces of a seed, INPUT of pieces of BASE and a few other letters.
+ */
 public final class LimitsTest {
     private static final Checks CHECKS = new Checks();
     private static final int MOST = 65536;
 
     public static void main(String[] args) {
-        longTexts();
-        longestDelta();
+        periods();
+        fibonacci();
+        pieces();
+        nothingOfBase();
         CHECKS.finish();
     }
 
-    private static void longTexts() {
-        int[] same = Checks.repeat(MOST, 'a');
-        int[] sameButLast = same.clone();
-        sameButLast[MOST - 1] = 'b';
-        int[] sameButMiddle = same.clone();
-        sameButMiddle[MOST / 2] = 'b';
-        int[] pairs = Checks.repeat(MOST / 2, 'a', 'b');
-        int[] fibonacci = fibonacci();
-        int[] random = random(256, 1);
-        int[] bits = random(2, 2);
-        int[] blocks = blocks();
-        compare("same on same", same, same);
-        compare("same on same but last", sameButLast, same);
-        compare("same but middle on same", same, sameButMiddle);
-        compare("same on same but middle", sameButMiddle, same);
-        compare("pairs on pairs but first", pairs, Arrays.copyOfRange(pairs, 1, MOST));
-        compare("Fibonacci on itself", fibonacci, fibonacci);
-        compare("Fibonacci on its end", Arrays.copyOfRange(fibonacci, 40000, MOST), fibonacci);
-        compare("bits on bits", bits, random(2, 3));
-        compare("letters on letters", random, random(256, 4));
-        compare("blocks on letters", random, blocks);
-        compare("letters on blocks", blocks, random);
-        compare("pairs on Fibonacci", fibonacci, pairs);
+    private static void periods() {
+        int[] same = Bytes.repeat(MOST, 'a');
+        int[] pairs = Bytes.repeat(MOST / 2, 'a', 'b');
+        compare("same on same", withPeriod('a'), same, new Delta(MOST).copy(0, MOST));
+        compare("same but last on same", withPeriod('a'), same, new Delta(MOST).copy(0, MOST - 1).fresh('b'));
+        compare("same but middle on same", withPeriod('a'), same,
+                new Delta(MOST).copy(0, 32768).fresh('b').copy(0, 32767));
+        compare("pairs on pairs", withPeriod('a', 'b'), pairs, new Delta(MOST).copy(1, MOST - 1));
+        compare("pairs with a seam on pairs", withPeriod('a', 'b'), pairs,
+                new Delta(MOST).copy(1, 40000).copy(1, 25536));
+        int[] parted = same.clone();
+        parted[MOST / 2] = 'b';
+        Run x = new Run();
+        x.putLong(Bytes.row('a'), MOST);
+        x.change(MOST / 2, 'a' ^ 'b');
+        x.base();
+        compare("same on same but middle", x, parted, new Delta(MOST).copy(0, 32768).copy(0, 32768));
     }
 
-    private static int[] fibonacci() {
-        int[] word = new int[MOST];
+    private static Run withPeriod(int... period) {
+        Run x = new Run();
+        x.putLong(period, MOST);
+        x.base();
+        return x;
+    }
+
+    /** BASE is what the DELTA makes of the seed. */
+    private static Run withPieces(int[] seed, Delta delta) {
+        Run x = new Run();
+        x.putBase(seed);
+        x.put(delta.bytes());
+        x.use();
+        x.turn();
+        x.base();
+        return x;
+    }
+
+    private static void fibonacci() {
+        int[] seed = word(610);
+        Delta delta = new Delta(610);
+        for (int piece : word(200)) {
+            int left = MOST - delta.makes();
+            int length = piece == 'a' ? 610 : 377;
+            if (left > 0) {
+                delta.copy(0, Math.min(length, left));
+            }
+        }
+        int[] base = delta.made(seed);
+        CHECKS.due("it is a Fibonacci word", Arrays.equals(base, word(MOST)) ? 1 : 0, 1);
+        compare("Fibonacci on itself", withPieces(seed, delta), base, new Delta(MOST).copy(0, MOST));
+        compare("the end of Fibonacci", withPieces(seed, delta), base, new Delta(MOST).copy(25536, 40000));
+        compare("pieces of Fibonacci", withPieces(seed, delta), base, somePieces(MOST, 1));
+    }
+
+    private static int[] word(int length) {
+        int[] word = new int[length];
         int before = 1;
-        int length = 2;
+        int made = 2;
         word[0] = 'a';
         word[1] = 'b';
-        while (length < MOST) {
-            int more = Math.min(before, MOST - length);
-            System.arraycopy(word, 0, word, length, more);
-            before = length;
-            length += more;
+        while (made < length) {
+            int more = Math.min(before, length - made);
+            System.arraycopy(word, 0, word, made, more);
+            before = made;
+            made += more;
         }
         return word;
     }
 
-    private static int[] random(int letters, int seed) {
+    private static void pieces() {
+        for (int seed = 2; seed < 6; seed++) {
+            int letters = seed % 2 == 0 ? 2 : 256;
+            int[] text = new Random(seed).ints(1500, 0, letters).toArray();
+            Delta delta = somePieces(text.length, seed);
+            compare("pieces of " + letters + " letters, " + seed, withPieces(text, delta), delta.made(text),
+                    somePieces(MOST, seed + 10));
+        }
+    }
+
+    /** As many as fill a text to its end, with a few letters between them. */
+    private static Delta somePieces(int inBase, int seed) {
         Random random = new Random(seed);
-        int[] text = new int[MOST];
-        for (int i = 0; i < MOST; i++) {
-            text[i] = random.nextInt(letters);
+        Delta delta = new Delta(inBase);
+        while (delta.makes() < MOST) {
+            int length = Math.min(1 + random.nextInt(900), MOST - delta.makes());
+            delta.copy(random.nextInt(inBase - length), length);
+            int left = Math.min(random.nextInt(4), MOST - delta.makes());
+            if (left > 0) {
+                delta.fresh(random.ints(left, 0, 256).toArray());
+            }
         }
-        return text;
+        return delta;
     }
 
-    private static int[] blocks() {
-        int[] text = random(256, 1);
-        Random random = new Random(5);
-        for (int i = 0; i + 300 < MOST; i += 20 + random.nextInt(280)) {
-            System.arraycopy(text, random.nextInt(MOST - 300), text, i, random.nextInt(300));
-        }
-        return text;
-    }
-
-    private static void compare(String what, int[] base, int[] text) {
-        DeltaPress x = new DeltaPress();
-        Checks.putBase(x, base);
-        Checks.put(x, text);
+    private static void compare(String what, Run x, int[] base, Delta delta) {
+        int[] text = delta.made(base);
+        x.put(delta.bytes());
+        CHECKS.due(what + ": use", x::use, text.length);
+        CHECKS.due(what + ": its text", Arrays.equals(x.output(), text) ? 1 : 0, 1);
+        x.turn();
         int[] places = {0, 1, 7, text.length / 3, text.length / 2, text.length - 9, text.length - 8, text.length - 1};
         for (int place : places) {
             int[] want = longest(base, text, place);
             CHECKS.due(what + ": length at " + place, x.longest(place, 0), want[0] < 8 ? 0 : want[0]);
             CHECKS.due(what + ": place at " + place, x.longest(place, 1), want[0] < 8 ? -1 : want[1]);
         }
-        int length = x.make();
-        CHECKS.due(what + ": OUTPUT", x.count(2), length);
-        if (length > MOST) {
-            CHECKS.dueThrow(what + ": turn", IllegalStateException.class, x::turn);
-            return;
-        }
+        int[] want = deltaOf(base, text);
+        CHECKS.due(what + ": make", x.make(), want.length);
+        CHECKS.dueOutput(what + ": make", x, want);
         x.turn();
-        CHECKS.due(what + ": use", Checks.outcome(x::use), Integer.toString(text.length));
-        CHECKS.due(what + ": is the text again", Arrays.equals(Checks.output(x), text) ? 1 : 0, 1);
+        CHECKS.due(what + ": use of make", x::use, text.length);
+        CHECKS.due(what + ": its text again", Arrays.equals(x.output(), text) ? 1 : 0, 1);
         CHECKS.due(what + ": BASE stays", x.count(1), base.length);
     }
 
-    /** Nothing of INPUT stands in BASE: two lengths of 3 BYTES, 517 rows of NEW ones. */
-    private static void longestDelta() {
-        DeltaPress x = new DeltaPress();
-        Checks.putLong(x, Checks.repeat(100, 'a'), MOST);
-        x.base();
-        int[] text = Checks.repeat(MOST, 'b');
-        Checks.put(x, text);
-        CHECKS.due("make, all NEW", Checks.outcome(x::make), "66059");
+    private static int[] deltaOf(int[] base, int[] text) {
+        Delta delta = new Delta(base.length);
+        int place = 0;
+        int fresh = 0;
+        while (place + fresh < text.length) {
+            int[] found = longest(base, text, place + fresh);
+            if (found[0] < 8) {
+                fresh++;
+            }
+            if (fresh > 0 && (found[0] >= 8 || fresh == 127 || place + fresh == text.length)) {
+                delta.fresh(Bytes.cut(text, place, place + fresh));
+                place += fresh;
+                fresh = 0;
+            }
+            if (found[0] >= 8) {
+                delta.copy(found[1], found[0]);
+                place += found[0];
+            }
+        }
+        return delta.bytes();
+    }
+
+    private static void nothingOfBase() {
+        Run x = new Run();
+        x.putNothingOfBase(MOST);
+        CHECKS.due("make, all NEW", x::make, 66059);
+        CHECKS.due("COPIES", x.count(3), 0);
         CHECKS.due("NEW BYTES", x.count(4), MOST);
         CHECKS.due("the last row's head", x.letter(66059 - 5), 4);
-        CHECKS.due("the last BYTE", x.letter(66059 - 1), 'b');
-        CHECKS.dueThrow("turn, all NEW", IllegalStateException.class, x::turn);
-        CHECKS.due("INPUT stays", x.count(0), MOST);
+        CHECKS.dueRefused("turn, all NEW", IllegalStateException.class, x, x::turn);
     }
 
     /** By Knuth, Morris and Pratt: how much of the text is a border at each place of BASE. */

@@ -1,17 +1,18 @@
+import java.util.ArrayList;
+import java.util.List;
 import java.util.Random;
 
-/** Runs of up to 512 calls, drawn from fixed seeds, against the plain model. */
+/** Runs of calls, drawn from fixed seeds, against the plain model: every answer, and at the end all of OUTPUT. */
 public final class ModelTest {
     private static final Checks CHECKS = new Checks();
-    private static final int RUNS = 600;
+    private static final int RUNS = 2000;
 
     private final Random random;
-    private final DeltaPress x = new DeltaPress();
+    private final Run x = new Run();
     private final PlainModel model = new PlainModel();
     private final String name;
     /** Few letters make many repeats. */
     private final int letters;
-    private int calls = 0;
 
     private ModelTest(int seed) {
         random = new Random(seed);
@@ -27,7 +28,8 @@ public final class ModelTest {
     }
 
     private void run() {
-        while (calls < 480) {
+        int most = 20 + random.nextInt(380);
+        while (x.calls() < most) {
             switch (random.nextInt(12)) {
                 case 0, 1, 2 -> feed();
                 case 3 -> end(someOfInput());
@@ -40,15 +42,35 @@ public final class ModelTest {
                 default -> handmadeDelta();
             }
         }
-        for (int what = -1; what <= 6; what++) {
-            int asked = what;
-            due("count(" + what + ")", () -> x.count(asked), () -> model.count(asked));
-        }
+        atTheEnd();
     }
 
     private void due(String call, Checks.Call ours, Checks.Call theirs) {
-        calls++;
-        CHECKS.due(name + ", call " + calls + ": " + call, Checks.outcome(ours), Checks.outcome(theirs));
+        String got = Checks.outcome(ours);
+        CHECKS.due(name + ", call " + x.calls() + ": " + call, got, Checks.outcome(theirs));
+    }
+
+    private void atTheEnd() {
+        List<Run.Question> questions = new ArrayList<>();
+        for (int what = -1; what <= 6; what++) {
+            questions.add(new Run.Question("count", 0, what));
+        }
+        for (int i = -1; i <= model.count(2); i++) {
+            questions.add(new Run.Question("letter", i, 0));
+        }
+        for (int times = 0; times < 60; times++) {
+            questions.add(new Run.Question("longest", within(model.count(0)), random.nextInt(2)));
+        }
+        List<String> want = questions.stream().map(asked -> Checks.outcome(() -> answerOfModel(asked))).toList();
+        CHECKS.dueAnswers("at the end of " + name, new Run.Answers(questions, x.ask(questions)), want);
+    }
+
+    private int answerOfModel(Run.Question asked) {
+        return switch (asked.method()) {
+            case "count" -> model.count(asked.what());
+            case "letter" -> model.letter(asked.i());
+            default -> model.longest(asked.i(), asked.what());
+        };
     }
 
     private int number() {
@@ -74,7 +96,7 @@ public final class ModelTest {
     }
 
     private int someOfInput() {
-        int some = within(x.count(0));
+        int some = within(model.count(0));
         return random.nextInt(3) == 0 ? some : Math.min(some, random.nextInt(20));
     }
 
@@ -83,12 +105,9 @@ public final class ModelTest {
     }
 
     private void change() {
-        int i = within(x.count(0));
+        int i = within(model.count(0));
         int value = random.nextInt(10) == 0 ? random.nextInt(260) - 2 : 1 << random.nextInt(8);
-        due("change(" + i + ", " + value + ")", () -> {
-            x.change(i, value);
-            return 0;
-        }, () -> model.change(i, value));
+        due("change(" + i + ", " + value + ")", () -> x.change(i, value), () -> model.change(i, value));
     }
 
     private void base() {
@@ -109,51 +128,42 @@ public final class ModelTest {
     }
 
     private void turn() {
-        if (x.count(2) < 3000) {
+        if (model.count(2) < 3000) {
             due("turn()", x::turn, model::turn);
         }
     }
 
     private void longest() {
         for (int times = 0; times < 4; times++) {
-            int i = within(x.count(0));
+            int i = within(model.count(0));
             int what = random.nextInt(20) == 0 ? random.nextInt(5) - 2 : random.nextInt(2);
             due("longest(" + i + ", " + what + ")", () -> x.longest(i, what), () -> model.longest(i, what));
         }
     }
 
-    /** All of OUTPUT is compared, but counted as the few calls that a run would spend on it. */
+    /** A few letters: the run has calls for no more. */
     private void letters() {
         due("count(2)", () -> x.count(2), () -> model.count(2));
-        StringBuilder ours = new StringBuilder();
-        StringBuilder theirs = new StringBuilder();
-        for (int i = -1; i <= x.count(2); i++) {
-            int place = i;
-            ours.append(Checks.outcome(() -> x.letter(place))).append(' ');
-            theirs.append(Checks.outcome(() -> model.letter(place))).append(' ');
+        for (int times = 0; times < 3; times++) {
+            int i = within(model.count(2));
+            due("letter(" + i + ")", () -> x.letter(i), () -> model.letter(i));
         }
-        calls += 3;
-        CHECKS.due(name + ", call " + calls + ": OUTPUT", ours.toString(), theirs.toString());
     }
 
     /** A DELTA of steps as no make would choose them, sound or nearly so. */
     private void handmadeDelta() {
-        int inBase = x.count(1);
-        int[] steps = {};
-        int makes = 0;
+        int inBase = model.count(1);
+        Delta built = new Delta(0);
         for (int times = random.nextInt(8); times > 0; times--) {
             if (inBase > 0 && random.nextInt(3) > 0) {
                 int place = random.nextInt(inBase);
                 int length = 1 + random.nextInt(inBase - place);
-                steps = Checks.join(steps, copy(place, length));
-                makes += length;
+                built.step(length, Delta.copyWith(someBits(), place, length));
             } else {
-                int many = 1 + random.nextInt(12);
-                steps = Checks.join(steps, new int[] {many}, Checks.repeat(many, random.nextInt(256)));
-                makes += many;
+                built.fresh(Bytes.repeat(1 + random.nextInt(12), random.nextInt(256)));
             }
         }
-        int[] delta = Checks.join(looseNumber(inBase), looseNumber(makes), steps);
+        int[] delta = Bytes.join(looseNumber(inBase), looseNumber(built.makes()), built.steps());
         for (int times = random.nextInt(3); times > 0; times--) {
             delta[random.nextInt(delta.length)] ^= 1 << random.nextInt(8);
         }
@@ -166,30 +176,26 @@ public final class ModelTest {
     }
 
     private int[] looseNumber(int number) {
-        int[] bytes = Checks.number(number);
+        int[] bytes = Bytes.number(number);
         while (bytes.length < 4 && random.nextInt(3) == 0) {
             bytes[bytes.length - 1] |= 128;
-            bytes = Checks.join(bytes, new int[] {0});
+            bytes = Bytes.join(bytes, Bytes.row(0));
         }
         return bytes;
     }
 
-    private int[] copy(int place, int length) {
-        int[] bytes = {place & 255, place >>> 8, 0, 0, length & 255, length >>> 8, 0};
-        int[] copy = {128};
-        for (int bit = 0; bit < bytes.length; bit++) {
-            if (bytes[bit] != 0 || random.nextInt(5) == 0) {
-                copy[0] |= 1 << bit;
-                copy = Checks.join(copy, new int[] {bytes[bit]});
-            }
+    private int someBits() {
+        int bits = 0;
+        for (int bit = 0; bit < 7; bit++) {
+            bits |= random.nextInt(5) == 0 ? 1 << bit : 0;
         }
-        return copy;
+        return bits;
     }
 
     private void putDelta(int[] delta) {
-        end(x.count(0));
+        end(model.count(0));
         for (int from = 0; from < delta.length; from += 20) {
-            int[] n = Checks.numbers(delta, from);
+            int[] n = Bytes.numbers(delta, from);
             due("feed", () -> x.feed(n[0], n[1], n[2], n[3], n[4]), () -> model.feed(n));
         }
         end((20 - delta.length % 20) % 20);

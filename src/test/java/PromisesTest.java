@@ -1,9 +1,10 @@
+import java.util.Arrays;
+
 /** Each promise by itself: ordinary inputs, the edges that the document names, wrong inputs. */
 public final class PromisesTest {
     private static final Checks CHECKS = new Checks();
     private static final Class<IllegalStateException> STATE = IllegalStateException.class;
     private static final Class<IllegalArgumentException> BAD = IllegalArgumentException.class;
-    private static final Class<ArithmeticException> DAMAGED = ArithmeticException.class;
     private static final Class<IndexOutOfBoundsException> OUTSIDE = IndexOutOfBoundsException.class;
 
     public static void main(String[] args) {
@@ -27,20 +28,20 @@ public final class PromisesTest {
     }
 
     private static void newObject() {
-        DeltaPress x = new DeltaPress();
+        Run x = new Run();
         for (int what = 0; what <= 5; what++) {
             CHECKS.due("1: count(" + what + ") of a new object", x.count(what), 0);
         }
-        CHECKS.dueThrow("1: letter(0) of a new object", OUTSIDE, () -> x.letter(0));
+        CHECKS.dueRefused("1: letter(0) of a new object", OUTSIDE, x, () -> x.letter(0));
         CHECKS.due("1: make of a new object", x.make(), 2);
         CHECKS.dueOutput("1: DELTA of a new object", x, 0, 0);
-        DeltaPress y = new DeltaPress();
+        Run y = new Run();
         CHECKS.due("1: turn of a new object", y.turn(), 0);
         CHECKS.due("1: base of a new object", y.base(), 0);
     }
 
     private static void feed() {
-        DeltaPress x = new DeltaPress();
+        Run x = new Run();
         CHECKS.due("2: feed", x.feed(0x00010203, 0x04050607, 0x7f8081ff, -1, 0x80000001), 20);
         CHECKS.due("2: feed again", x.feed(0x0a0b0c0d, 0, 0, 0, 0x000000fe), 40);
         x.make();
@@ -48,25 +49,25 @@ public final class PromisesTest {
         x.use();
         CHECKS.dueOutput("2: the fed BYTES", x, 0, 1, 2, 3, 4, 5, 6, 7, 127, 128, 129, 255, 255, 255, 255, 255,
                 128, 0, 0, 1, 10, 11, 12, 13, 0, 0, 0, 0, 0, 0, 0, 0, 0, 0, 0, 0, 0, 0, 0, 254);
-        DeltaPress full = new DeltaPress();
-        Checks.putLong(full, Checks.text("abcdefgh"), 65536);
-        CHECKS.dueThrow("2: feed when full", STATE, () -> full.feed(1, 2, 3, 4, 5));
+        Run full = new Run();
+        full.putLong(Bytes.text("abcdefgh"), 65536);
+        CHECKS.dueRefused("2: feed when full", STATE, full, () -> full.feed(1, 2, 3, 4, 5));
         full.end(19);
-        CHECKS.dueThrow("2: feed with room for 19", STATE, () -> full.feed(1, 2, 3, 4, 5));
+        CHECKS.dueRefused("2: feed with room for 19", STATE, full, () -> full.feed(1, 2, 3, 4, 5));
         CHECKS.due("2: refused feed changes nothing", full.count(0), 65517);
         full.end(1);
         CHECKS.due("2: feed with room for 20", full.feed(1, 2, 3, 4, 5), 65536);
     }
 
     private static void end() {
-        DeltaPress x = new DeltaPress();
+        Run x = new Run();
         CHECKS.due("3: end(0) of nothing", x.end(0), 0);
-        CHECKS.dueThrow("3: end(1) of nothing", BAD, () -> x.end(1));
-        Checks.put(x, Checks.text("abcde"));
-        CHECKS.dueThrow("3: end(-1)", BAD, () -> x.end(-1));
-        CHECKS.dueThrow("3: end(6) of 5", BAD, () -> x.end(6));
-        CHECKS.dueThrow("3: end(least)", BAD, () -> x.end(Integer.MIN_VALUE));
-        CHECKS.dueThrow("3: end(greatest)", BAD, () -> x.end(Integer.MAX_VALUE));
+        CHECKS.dueRefused("3: end(1) of nothing", BAD, x, () -> x.end(1));
+        x.put(Bytes.text("abcde"));
+        CHECKS.dueRefused("3: end(-1)", BAD, x, () -> x.end(-1));
+        CHECKS.dueRefused("3: end(6) of 5", BAD, x, () -> x.end(6));
+        CHECKS.dueRefused("3: end(least)", BAD, x, () -> x.end(Integer.MIN_VALUE));
+        CHECKS.dueRefused("3: end(greatest)", BAD, x, () -> x.end(Integer.MAX_VALUE));
         CHECKS.due("3: refused end changes nothing", x.count(0), 5);
         CHECKS.due("3: end(2)", x.end(2), 3);
         x.make();
@@ -75,13 +76,13 @@ public final class PromisesTest {
     }
 
     private static void change() {
-        DeltaPress x = new DeltaPress();
-        CHECKS.dueThrow("4: change in nothing", BAD, () -> changed(x, 0, 1));
-        Checks.put(x, 0, 1, 255, 170);
-        CHECKS.dueThrow("4: change(-1, 1)", BAD, () -> changed(x, -1, 1));
-        CHECKS.dueThrow("4: change(4, 1) of 4", BAD, () -> changed(x, 4, 1));
-        CHECKS.dueThrow("4: change(0, -1)", BAD, () -> changed(x, 0, -1));
-        CHECKS.dueThrow("4: change(0, 256)", BAD, () -> changed(x, 0, 256));
+        Run x = new Run();
+        CHECKS.dueRefused("4: change in nothing", BAD, x, () -> x.change(0, 1));
+        x.put(0, 1, 255, 170);
+        CHECKS.dueRefused("4: change(-1, 1)", BAD, x, () -> x.change(-1, 1));
+        CHECKS.dueRefused("4: change(4, 1) of 4", BAD, x, () -> x.change(4, 1));
+        CHECKS.dueRefused("4: change(0, -1)", BAD, x, () -> x.change(0, -1));
+        CHECKS.dueRefused("4: change(0, 256)", BAD, x, () -> x.change(0, 256));
         x.change(0, 255);
         x.change(1, 0);
         x.change(2, 128);
@@ -93,25 +94,20 @@ public final class PromisesTest {
         CHECKS.dueOutput("4: xored back", x, 0, 4, 4, 255, 1, 127, 170);
     }
 
-    private static long changed(DeltaPress x, int i, int value) {
-        x.change(i, value);
-        return 0;
-    }
-
     private static void base() {
-        DeltaPress x = new DeltaPress();
-        Checks.put(x, Checks.text("a base of more than 20 BYTES"));
+        Run x = new Run();
+        x.put(Bytes.text("a base of more than 20 BYTES"));
         CHECKS.due("5: base", x.base(), 28);
         CHECKS.due("5: INPUT is empty", x.count(0), 0);
         CHECKS.due("5: BASE is there", x.count(1), 28);
-        Checks.put(x, Checks.text("base of more"));
+        x.put(Bytes.text("base of more"));
         CHECKS.due("5: found in BASE", x.longest(0, 1), 2);
         x.make();
         CHECKS.due("5: base again", x.base(), 12);
         CHECKS.due("5: OUTPUT stays", x.count(2), 5);
-        Checks.put(x, Checks.text("than 20 BYTES"));
+        x.put(Bytes.text("than 20 BYTES"));
         CHECKS.due("5: the old BASE is gone", x.longest(0, 0), 0);
-        Checks.put(x, Checks.text(".base of more"));
+        x.put(Bytes.text(".base of more"));
         CHECKS.due("5: the new BASE is there", x.longest(1, 0), 12);
         x.end(13);
         CHECKS.due("5: empty base", x.base(), 0);
@@ -121,14 +117,14 @@ public final class PromisesTest {
     private static void makeNumbers() {
         int[] lengths = {0, 1, 127, 128, 129, 255, 256, 1000};
         for (int length : lengths) {
-            DeltaPress x = new DeltaPress();
-            Checks.putBase(x, Checks.repeat(length, 'b'));
-            Checks.put(x, 'x');
+            Run x = new Run();
+            x.putBase(Bytes.repeat(length, 'b'));
+            x.put('x');
             x.make();
-            CHECKS.dueOutput("6: BASE of " + length, x, Checks.join(Checks.number(length), new int[] {1, 1, 'x'}));
+            CHECKS.dueOutput("6: BASE of " + length, x, Bytes.join(Bytes.number(length), Bytes.row(1, 1, 'x')));
         }
-        DeltaPress x = new DeltaPress();
-        Checks.putLong(x, Checks.text("abcdefgh"), 16384);
+        Run x = new Run();
+        x.putLong(Bytes.text("abcdefgh"), 16384);
         x.base();
         x.make();
         CHECKS.dueOutput("6: BASE of 16384", x, 128, 128, 1, 0);
@@ -137,16 +133,16 @@ public final class PromisesTest {
     private static void makeNew() {
         int[] lengths = {1, 126, 127, 128, 254, 255};
         for (int length : lengths) {
-            DeltaPress x = new DeltaPress();
+            Run x = new Run();
             int[] bytes = new int[length];
             for (int i = 0; i < length; i++) {
                 bytes[i] = i * 7 & 255;
             }
-            Checks.put(x, bytes);
-            int[] want = Checks.join(new int[] {0}, Checks.number(length));
+            x.put(bytes);
+            int[] want = Bytes.join(Bytes.row(0), Bytes.number(length));
             for (int from = 0; from < length; from += 127) {
                 int to = Math.min(length, from + 127);
-                want = Checks.join(want, new int[] {to - from}, java.util.Arrays.copyOfRange(bytes, from, to));
+                want = Bytes.join(want, Bytes.row(to - from), Bytes.cut(bytes, from, to));
             }
             CHECKS.due("6: length with " + length + " NEW", x.make(), want.length);
             CHECKS.dueOutput("6: " + length + " NEW", x, want);
@@ -157,15 +153,15 @@ public final class PromisesTest {
     }
 
     private static void makeCopies() {
-        DeltaPress x = new DeltaPress();
-        Checks.putBase(x, Checks.text("01234567"));
-        Checks.put(x, Checks.text("1234567"));
+        Run x = new Run();
+        x.putBase(Bytes.text("01234567"));
+        x.put(Bytes.text("1234567"));
         x.make();
-        CHECKS.dueOutput("6: 7 are no COPY", x, Checks.join(new int[] {8, 7, 7}, Checks.text("1234567")));
-        Checks.put(x, Checks.text("01234567"));
+        CHECKS.dueOutput("6: 7 are no COPY", x, Bytes.join(Bytes.row(8, 7, 7), Bytes.text("1234567")));
+        x.put(Bytes.text("01234567"));
         x.make();
         CHECKS.dueOutput("6: 8 are a COPY, place 0 has no BYTE", x, 8, 8, 144, 8);
-        Checks.put(x, Checks.text("?0123456701234567!!01234567"));
+        x.put(Bytes.text("?0123456701234567!!01234567"));
         x.make();
         CHECKS.dueOutput("6: rows of NEW between COPIES", x, 8, 27, 1, '?', 144, 8, 144, 8, 2, '!', '!', 144, 8);
         CHECKS.due("6: COPIES", x.count(3), 3);
@@ -176,96 +172,86 @@ public final class PromisesTest {
     }
 
     private static void copyOfBytes() {
-        DeltaPress x = new DeltaPress();
+        Run x = new Run();
         int[] far = new int[600];
         for (int i = 0; i < far.length; i++) {
             far[i] = i * i / 7 + i / 256 * 3 & 255;
         }
-        Checks.putBase(x, far);
-        Checks.put(x, java.util.Arrays.copyOfRange(far, 256, 512));
+        x.putBase(far);
+        x.put(Bytes.cut(far, 256, 512));
         x.make();
         CHECKS.dueOutput("6: place 256, length 256", x, 216, 4, 128, 2, 162, 1, 1);
-        Checks.put(x, java.util.Arrays.copyOfRange(far, 300, 312));
+        x.put(Bytes.cut(far, 300, 312));
         x.make();
         CHECKS.dueOutput("6: place 300, length 12", x, 216, 4, 12, 147, 44, 1, 12);
-        Checks.put(x, java.util.Arrays.copyOfRange(far, 5, 505));
+        x.put(Bytes.cut(far, 5, 505));
         x.make();
         CHECKS.dueOutput("6: place 5, length 500", x, 216, 4, 244, 3, 177, 5, 244, 1);
     }
 
     /** The first COPY takes 8 letters, though one NEW letter before a longer COPY would be shorter. */
     private static int greedy() {
-        DeltaPress x = new DeltaPress();
-        Checks.putBase(x, Checks.text("abcdefgh-bcdefghijklmnop"));
-        Checks.put(x, Checks.text("abcdefghijklmnop"));
+        Run x = new Run();
+        x.putBase(Bytes.text("abcdefgh-bcdefghijklmnop"));
+        x.put(Bytes.text("abcdefghijklmnop"));
         x.make();
         CHECKS.dueOutput("6: greedy", x, 24, 16, 144, 8, 145, 16, 8);
         return x.count(0);
     }
 
-    private static void dueUse(String what, DeltaPress x, int[] delta, int... want) {
-        Checks.put(x, delta);
+    private static void dueUse(String what, Run x, int[] delta, int... want) {
+        x.put(delta);
         int inBase = x.count(1);
-        CHECKS.due("7: " + what, Checks.outcome(x::use), Integer.toString(want.length));
+        CHECKS.due("7: " + what, x::use, want.length);
         CHECKS.dueOutput("7: OUTPUT of " + what, x, want);
         CHECKS.due("7: INPUT stays", x.count(0), delta.length);
         CHECKS.due("7: BASE stays", x.count(1), inBase);
         CHECKS.due("7: not DAMAGED", x.count(5), 0);
     }
 
-    private static int[] row(int... bytes) {
-        return bytes;
-    }
-
     private static void useSound() {
-        DeltaPress x = new DeltaPress();
-        dueUse("nothing", x, row(0, 0));
-        dueUse("numbers with BYTES of 128", x, row(128, 128, 128, 0, 129, 128, 128, 0, 1, 65), 65);
-        dueUse("rows of NEW apart", x, row(0, 3, 1, 65, 2, 0, 255), 65, 0, 255);
-        dueUse("127 NEW", x, Checks.join(row(0, 127, 127), Checks.repeat(127, 9)), Checks.repeat(127, 9));
-        Checks.putBase(x, Checks.text("abcdefghij"));
-        dueUse("a COPY of 1", x, row(10, 1, 145, 9, 1), 'j');
-        dueUse("a COPY of all", x, row(10, 10, 144, 10), Checks.text("abcdefghij"));
-        dueUse("all BYTES of a COPY", x, row(10, 3, 255, 2, 0, 0, 0, 3, 0, 0), 'c', 'd', 'e');
-        dueUse("COPIES backwards", x, row(138, 128, 128, 0, 5, 145, 8, 2, 1, '-', 144, 2), 'i', 'j', '-', 'a', 'b');
-        DeltaPress y = new DeltaPress();
-        Checks.putLong(y, Checks.text("abcdefgh"), 65536);
+        Run x = new Run();
+        dueUse("nothing", x, Bytes.row(0, 0));
+        dueUse("numbers with BYTES of 128", x, Bytes.row(128, 128, 128, 0, 129, 128, 128, 0, 1, 65), 65);
+        dueUse("rows of NEW apart", x, Bytes.row(0, 3, 1, 65, 2, 0, 255), 65, 0, 255);
+        dueUse("127 NEW", x, Bytes.join(Bytes.row(0, 127, 127), Bytes.repeat(127, 9)), Bytes.repeat(127, 9));
+        x.putBase(Bytes.text("abcdefghij"));
+        dueUse("a COPY of 1", x, Bytes.row(10, 1, 145, 9, 1), 'j');
+        dueUse("a COPY of all", x, Bytes.row(10, 10, 144, 10), Bytes.text("abcdefghij"));
+        dueUse("all BYTES of a COPY", x, Bytes.row(10, 3, 255, 2, 0, 0, 0, 3, 0, 0), 'c', 'd', 'e');
+        dueUse("COPIES backwards", x, Bytes.row(138, 128, 128, 0, 5, 145, 8, 2, 1, '-', 144, 2), 'i', 'j', '-', 'a', 'b');
+        Run y = new Run();
+        y.putLong(Bytes.text("abcdefgh"), 65536);
         y.base();
-        Checks.put(y, 128, 128, 4, 128, 128, 4, 128);
-        CHECKS.due("7: a length of 0 without BYTES", Checks.outcome(y::use), "65536");
-        Checks.put(y, 128, 128, 4, 128, 128, 4, 240, 0, 0, 0);
-        CHECKS.due("7: a length of 0 with BYTES", Checks.outcome(y::use), "65536");
-        Checks.put(y, 128, 128, 4, 128, 128, 4, 192, 1);
-        CHECKS.due("7: a third BYTE of length", Checks.outcome(y::use), "65536");
-        Checks.put(y, 128, 128, 4, 255, 255, 3, 179, 1, 0, 255, 255);
-        CHECKS.due("7: 65535 from 1 on", Checks.outcome(y::use), "65535");
+        y.put(128, 128, 4, 128, 128, 4, 128);
+        CHECKS.due("7: a length of 0 without BYTES", y::use, 65536);
+        y.put(128, 128, 4, 128, 128, 4, 240, 0, 0, 0);
+        CHECKS.due("7: a length of 0 with BYTES", y::use, 65536);
+        y.put(128, 128, 4, 128, 128, 4, 192, 1);
+        CHECKS.due("7: a third BYTE of length", y::use, 65536);
+        y.put(128, 128, 4, 255, 255, 3, 179, 1, 0, 255, 255);
+        CHECKS.due("7: 65535 from 1 on", y::use, 65535);
         CHECKS.due("7: its last BYTE", y.letter(65534), 'h');
-        Checks.put(y, 128, 128, 4, 1, 147, 255, 255, 1);
-        CHECKS.due("7: the last BYTE of BASE", Checks.outcome(y::use), "1");
+        y.put(128, 128, 4, 1, 147, 255, 255, 1);
+        CHECKS.due("7: the last BYTE of BASE", y::use, 1);
         CHECKS.due("7: is this", y.letter(0), 'h');
     }
 
-    private static void dueDamaged(String what, DeltaPress x, int... delta) {
-        Checks.put(x, delta);
-        int before = x.count(5);
-        String output = java.util.Arrays.toString(Checks.output(x));
-        CHECKS.dueThrow("7: " + what, DAMAGED, x::use);
-        CHECKS.due("7: counted: " + what, x.count(5), before + 1);
-        CHECKS.due("7: OUTPUT stays: " + what, java.util.Arrays.toString(Checks.output(x)), output);
-        CHECKS.due("7: INPUT stays: " + what, x.count(0), delta.length);
-        CHECKS.due("7: BASE stays: " + what, x.count(1), 10);
+    private static void dueDamaged(String what, Run x, int... delta) {
+        x.put(delta);
+        CHECKS.dueDamaged(what, x);
     }
 
-    private static DeltaPress withBaseAndOutput() {
-        DeltaPress x = new DeltaPress();
-        Checks.putBase(x, Checks.text("abcdefghij"));
-        Checks.put(x, 10, 2, 1, 'x', 144, 1);
+    private static Run withBaseAndOutput() {
+        Run x = new Run();
+        x.putBase(Bytes.text("abcdefghij"));
+        x.put(10, 2, 1, 'x', 144, 1);
         x.use();
         return x;
     }
 
     private static void useDamagedNumbers() {
-        DeltaPress x = withBaseAndOutput();
+        Run x = withBaseAndOutput();
         dueDamaged("nothing at all", x);
         dueDamaged("one number", x, 10);
         dueDamaged("half a number", x, 138);
@@ -282,7 +268,7 @@ public final class PromisesTest {
     }
 
     private static void useDamagedSteps() {
-        DeltaPress x = withBaseAndOutput();
+        Run x = withBaseAndOutput();
         dueDamaged("BYTE 0", x, 10, 0, 0);
         dueDamaged("BYTE 0 behind NEW", x, 10, 1, 1, 65, 0);
         dueDamaged("BYTE 0 before NEW", x, 10, 1, 0, 1, 65);
@@ -317,24 +303,24 @@ public final class PromisesTest {
 
     /** Where a COPY of 65536 would fit, so that only what is missing or too much is DAMAGED. */
     private static void useDamagedOnLongBase() {
-        DeltaPress x = new DeltaPress();
-        Checks.putLong(x, Checks.text("abcdefgh"), 65536);
+        Run x = new Run();
+        x.putLong(Bytes.text("abcdefgh"), 65536);
         x.base();
         int[] whole = {128, 128, 4, 128, 128, 4};
         int[][] wrong = {{129}, {144}, {176, 0}, {240, 0, 0}, {128, 128}, {128, 1, 65}, {1, 65, 128}, {129, 1}, {}};
         for (int[] steps : wrong) {
-            Checks.put(x, Checks.join(whole, steps));
-            CHECKS.dueThrow("7: 65536 by " + java.util.Arrays.toString(steps), DAMAGED, x::use);
+            x.put(Bytes.join(whole, steps));
+            CHECKS.dueDamaged("7: 65536 by " + Arrays.toString(steps), x);
         }
-        Checks.put(x, 128, 128, 4, 129, 128, 4, 128, 1, 65);
-        CHECKS.dueThrow("7: 65537 that are made", DAMAGED, x::use);
+        x.put(128, 128, 4, 129, 128, 4, 128, 1, 65);
+        CHECKS.dueDamaged("7: 65537 that are made", x);
         CHECKS.due("7: all were DAMAGED", x.count(5), wrong.length + 1);
         CHECKS.due("7: OUTPUT stays", x.count(2), 65536);
     }
 
     private static void turn() {
-        DeltaPress x = new DeltaPress();
-        Checks.put(x, Checks.text("text"));
+        Run x = new Run();
+        x.put(Bytes.text("text"));
         x.make();
         CHECKS.due("8: turn", x.turn(), 7);
         CHECKS.due("8: INPUT is as long", x.count(0), 7);
@@ -343,26 +329,26 @@ public final class PromisesTest {
         CHECKS.dueOutput("8: OUTPUT is another row", x, 0, 4, 4, 't', 'e', 'x', 't');
         x.use();
         CHECKS.dueOutput("8: INPUT was OUTPUT", x, 'u', 'e', 'x', 't');
-        DeltaPress full = new DeltaPress();
-        Checks.putLong(full, Checks.text("abcdefgh"), 65536);
+        Run full = new Run();
+        full.putLong(Bytes.text("abcdefgh"), 65536);
         CHECKS.due("8: turn of 65536", full.turn(), 65536);
         makeAllNew(full, 65018);
         CHECKS.due("8: turn of two less than go", full.turn(), 65534);
         makeAllNew(full, 65020);
         CHECKS.due("8: turn of as many as go", full.turn(), 65536);
         makeAllNew(full, 65021);
-        CHECKS.dueThrow("8: turn of one too many", STATE, full::turn);
+        CHECKS.dueRefused("8: turn of one too many", STATE, full, full::turn);
         CHECKS.due("8: refused turn leaves INPUT", full.count(0), 65021);
         CHECKS.due("8: refused turn leaves OUTPUT", full.count(2), 65537);
-        DeltaPress none = new DeltaPress();
-        Checks.put(none, Checks.text("gone"));
+        Run none = new Run();
+        none.put(Bytes.text("gone"));
         CHECKS.due("8: turn of nothing", none.turn(), 0);
         CHECKS.due("8: INPUT is nothing", none.count(0), 0);
     }
 
     /** OUTPUT is the DELTA of a text of so many BYTES on nothing: 512 rows of NEW. */
-    private static void makeAllNew(DeltaPress x, int length) {
-        Checks.putLong(x, Checks.text("abcdefgh"), length);
+    private static void makeAllNew(Run x, int length) {
+        x.putLong(Bytes.text("abcdefgh"), length);
         x.base();
         x.base();
         x.turn();
@@ -370,10 +356,10 @@ public final class PromisesTest {
     }
 
     private static void longest() {
-        DeltaPress x = new DeltaPress();
-        CHECKS.dueThrow("9: longest in nothing", BAD, () -> x.longest(0, 0));
-        Checks.putBase(x, Checks.text("xxabcdefghyabcdefghizabcdefghi"));
-        Checks.put(x, Checks.text("abcdefghiz-abcdefgh"));
+        Run x = new Run();
+        CHECKS.dueRefused("9: longest in nothing", BAD, x, () -> x.longest(0, 0));
+        x.putBase(Bytes.text("xxabcdefghyabcdefghizabcdefghi"));
+        x.put(Bytes.text("abcdefghiz-abcdefgh"));
         CHECKS.due("9: length", x.longest(0, 0), 10);
         CHECKS.due("9: place", x.longest(0, 1), 11);
         CHECKS.due("9: length to the end of INPUT", x.longest(11, 0), 8);
@@ -383,16 +369,16 @@ public final class PromisesTest {
         CHECKS.due("9: of the last BYTE", x.longest(18, 0), 0);
         CHECKS.due("9: just 8", x.longest(2, 0), 8);
         CHECKS.due("9: place of just 8", x.longest(2, 1), 13);
-        CHECKS.dueThrow("9: longest(-1, 0)", BAD, () -> x.longest(-1, 0));
-        CHECKS.dueThrow("9: longest(19, 0) of 19", BAD, () -> x.longest(19, 0));
-        CHECKS.dueThrow("9: longest(0, -1)", BAD, () -> x.longest(0, -1));
-        CHECKS.dueThrow("9: longest(0, 2)", BAD, () -> x.longest(0, 2));
+        CHECKS.dueRefused("9: longest(-1, 0)", BAD, x, () -> x.longest(-1, 0));
+        CHECKS.dueRefused("9: longest(19, 0) of 19", BAD, x, () -> x.longest(19, 0));
+        CHECKS.dueRefused("9: longest(0, -1)", BAD, x, () -> x.longest(0, -1));
+        CHECKS.dueRefused("9: longest(0, 2)", BAD, x, () -> x.longest(0, 2));
         x.change(5, 1);
         CHECKS.due("9: after a change", x.longest(0, 0), 0);
         CHECKS.due("9: changes no OUTPUT", x.count(2), 0);
         CHECKS.due("9: counts no COPIES", x.count(3), 0);
-        DeltaPress full = new DeltaPress();
-        Checks.putLong(full, Checks.text("abcdefgh"), 65536);
+        Run full = new Run();
+        full.putLong(Bytes.text("abcdefgh"), 65536);
         full.base();
         full.turn();
         CHECKS.due("9: at most 65535", full.longest(0, 0), 65535);
@@ -406,39 +392,39 @@ public final class PromisesTest {
     }
 
     private static void letter() {
-        DeltaPress x = new DeltaPress();
-        CHECKS.dueThrow("10: letter(0) of nothing", OUTSIDE, () -> x.letter(0));
-        Checks.put(x, 0, 127, 128, 255);
+        Run x = new Run();
+        CHECKS.dueRefused("10: letter(0) of nothing", OUTSIDE, x, () -> x.letter(0));
+        x.put(0, 127, 128, 255);
         x.make();
         CHECKS.due("10: first", x.letter(0), 0);
         CHECKS.due("10: 0", x.letter(3), 0);
         CHECKS.due("10: 127", x.letter(4), 127);
         CHECKS.due("10: 128", x.letter(5), 128);
         CHECKS.due("10: 255", x.letter(6), 255);
-        CHECKS.dueThrow("10: letter(7) of 7", OUTSIDE, () -> x.letter(7));
-        CHECKS.dueThrow("10: letter(-1)", OUTSIDE, () -> x.letter(-1));
-        CHECKS.dueThrow("10: letter(least)", OUTSIDE, () -> x.letter(Integer.MIN_VALUE));
+        CHECKS.dueRefused("10: letter(7) of 7", OUTSIDE, x, () -> x.letter(7));
+        CHECKS.dueRefused("10: letter(-1)", OUTSIDE, x, () -> x.letter(-1));
+        CHECKS.dueRefused("10: letter(least)", OUTSIDE, x, () -> x.letter(Integer.MIN_VALUE));
         x.end(4);
         x.make();
-        CHECKS.dueThrow("10: letter of what was there before", OUTSIDE, () -> x.letter(2));
+        CHECKS.dueRefused("10: letter of what was there before", OUTSIDE, x, () -> x.letter(2));
     }
 
     private static void count() {
-        DeltaPress x = new DeltaPress();
+        Run x = new Run();
         int[] others = {-1, 6, 7, Integer.MIN_VALUE, Integer.MAX_VALUE};
         for (int what : others) {
             CHECKS.due("11: count(" + what + ")", x.count(what), -1);
         }
-        Checks.putBase(x, Checks.text("twelve bytes"));
-        Checks.put(x, Checks.text("twelve bytes and eight"));
+        x.putBase(Bytes.text("twelve bytes"));
+        x.put(Bytes.text("twelve bytes and eight"));
         x.make();
         CHECKS.due("11: INPUT", x.count(0), 22);
         CHECKS.due("11: BASE", x.count(1), 12);
         CHECKS.due("11: OUTPUT", x.count(2), 15);
         CHECKS.due("11: COPIES", x.count(3), 1);
         CHECKS.due("11: NEW", x.count(4), 10);
-        CHECKS.dueThrow("11: a text is no DELTA", DAMAGED, x::use);
-        CHECKS.dueThrow("11: nor the second time", DAMAGED, x::use);
+        CHECKS.dueDamaged("11: a text is no DELTA", x);
+        CHECKS.dueDamaged("11: nor the second time", x);
         CHECKS.due("11: DAMAGED", x.count(5), 2);
         x.turn();
         x.use();

@@ -87,11 +87,17 @@ public final class RoomTest {
 
     private static void feeds() {
         x = new DeltaPress();
-        for (int k = 0; k < MOST / 20; k++) {
+        for (int k = 1; k < CALLS; k++) {
             int number = k;
             small("feed " + k, () -> x.feed(number, 0, 0, 0, 0));
         }
-        small("end", () -> x.end(MOST / 20 * 20));
+        small("end", () -> x.end(20 * (CALLS - 1)));
+        longText();
+        small("end", () -> x.end(MOST));
+        for (int k = 0; k < 400; k++) {
+            int number = k;
+            small("feed " + k + " behind a long text", () -> x.feed(number, 0, 0, 0, 0));
+        }
     }
 
     /** INPUT and OUTPUT are a text of 65536 BYTES, every call of its making looked at. */
@@ -101,11 +107,11 @@ public final class RoomTest {
             small("feed", () -> x.feed(1, 2, 3, 4, 5));
         }
         small("base", x::base);
-        int[] delta = Checks.join(Checks.number(200), Checks.number(MOST), Checks.repeat(MOST / 200, 144, 200),
-                new int[] {144, MOST % 200});
+        int[] delta = Bytes.join(Bytes.number(200), Bytes.number(MOST), Bytes.repeat(MOST / 200, 144, 200),
+                Bytes.row(144, MOST % 200));
         int feeds = (delta.length + 19) / 20;
         for (int k = 0; k < feeds; k++) {
-            int[] n = Checks.numbers(delta, 20 * k);
+            int[] n = Bytes.numbers(delta, 20 * k);
             small("feed", () -> x.feed(n[0], n[1], n[2], n[3], n[4]));
         }
         small("end", () -> x.end(20 * feeds - delta.length));
