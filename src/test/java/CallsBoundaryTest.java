@@ -36,7 +36,8 @@ public final class CallsBoundaryTest {
         longestInNothing();
         longestInAll65536();
         longestOfOtherWhat();
-        longestBelow8();
+        lengthBelow8();
+        placeBelow8();
         letterOfWhatIsThere();
         letterOfNothing();
         letterOfLongOutputs();
@@ -49,18 +50,19 @@ public final class CallsBoundaryTest {
         CHECKS.finish();
     }
 
-    /** BASE is nine letters; INPUT has them twice, and three others; OUTPUT is its DELTA. */
+    /** BASE is nine letters; INPUT has them twice, and three others; OUTPUT is its DELTA; no count is 0. */
     private static Run withTexts() {
         Run x = new Run();
         x.putBase(Bytes.text("abcdefghi"));
         x.put(Bytes.text("?abcdefghi!bcdefghi."));
         x.make();
+        CHECKS.dueThrow("use() of a text", ArithmeticException.class, x::use);
         return x;
     }
 
-    /** INPUT is so many BYTES with a period of eight, OUTPUT the same, BASE those eight. */
+    /** INPUT is so many BYTES with a period of eight, OUTPUT the same, BASE those eight; no count is 0. */
     private static Run withLongInput(int length) {
-        Run x = new Run();
+        Run x = withTexts();
         x.putLong(EIGHT, length);
         x.putBase(EIGHT);
         x.turn();
@@ -68,7 +70,7 @@ public final class CallsBoundaryTest {
     }
 
     private static void newObjectIsEmpty() {
-        CHECKS.says("1: Empty");
+        CHECKS.says("1, Empty.");
         for (int what = 0; what <= 5; what++) {
             CHECKS.due("count(" + what + ")", new Run().count(what), 0);
         }
@@ -99,7 +101,7 @@ public final class CallsBoundaryTest {
     }
 
     private static void highestFirst() {
-        CHECKS.says("2: of each the highest first");
+        CHECKS.says("2, of each the highest first");
         dueFed(Bytes.row(1, 2, 3, 4, 5, 6, 7, 8, 9, 10, 11, 12, 13, 14, 15, 16, 17, 18, 19, 20),
                 0x01020304, 0x05060708, 0x090a0b0c, 0x0d0e0f10, 0x11121314);
         dueFed(Bytes.row(128, 0, 0, 0, 127, 255, 255, 255, 255, 255, 255, 255, 0, 0, 0, 0, 0, 0, 0, 1),
@@ -122,7 +124,7 @@ public final class CallsBoundaryTest {
     }
 
     private static void feedTooLong() {
-        CHECKS.says("2: It would be too long: IllegalStateException");
+        CHECKS.says("2, It would be too long");
         int[] taken = {65515, 65516};
         for (int length : taken) {
             Run x = withLongInput(length);
@@ -141,7 +143,7 @@ public final class CallsBoundaryTest {
     }
 
     private static void endOfAsManyAsThere() {
-        CHECKS.says("3: 0 or more, as many must be there; else bad");
+        CHECKS.says("3, 0 or more, as many must be there; else bad");
         int[] refused = {-1, -2, IN_INPUT + 1, IN_INPUT + 2, -IN_INPUT, MOST, LEAST_INT, LEAST_INT + 1, GREATEST_INT};
         for (int n : refused) {
             Run x = withTexts();
@@ -163,7 +165,7 @@ public final class CallsBoundaryTest {
     }
 
     private static void endOfNothing() {
-        CHECKS.says("3: 0 or more, as many must be there; else bad");
+        CHECKS.says("3, 0 or more, as many must be there; else bad");
         Run x = withTexts();
         x.end(IN_INPUT);
         CHECKS.due("end(0) of nothing", () -> x.end(0), 0);
@@ -174,7 +176,7 @@ public final class CallsBoundaryTest {
     }
 
     private static void endOfAll65536() {
-        CHECKS.says("3: 0 or more, as many must be there; else bad");
+        CHECKS.says("3, 0 or more, as many must be there; else bad");
         Run x = withLongInput(MOST);
         CHECKS.due("end(0)", () -> x.end(0), MOST);
         CHECKS.dueRefused("end(65537)", BAD, x, () -> x.end(MOST + 1));
@@ -186,7 +188,7 @@ public final class CallsBoundaryTest {
     }
 
     private static void changeOfWhatIsThere() {
-        CHECKS.says("4: it must be there, else bad");
+        CHECKS.says("4, it must be there, else bad");
         int[] refused = {-1, -2, IN_INPUT, IN_INPUT + 1, MOST, LEAST_INT, LEAST_INT + 1, GREATEST_INT};
         for (int i : refused) {
             Run x = withTexts();
@@ -217,7 +219,7 @@ public final class CallsBoundaryTest {
     }
 
     private static void changeOfNothing() {
-        CHECKS.says("4: it must be there, else bad");
+        CHECKS.says("4, it must be there, else bad");
         Run x = withTexts();
         x.end(IN_INPUT);
         int[] refused = {0, 1, -1, LEAST_INT, GREATEST_INT};
@@ -227,7 +229,7 @@ public final class CallsBoundaryTest {
     }
 
     private static void changeInAll65536() {
-        CHECKS.says("4: it must be there, else bad");
+        CHECKS.says("4, it must be there, else bad");
         Run x = withLongInput(MOST);
         CHECKS.dueRefused("change(65536, 1)", BAD, x, () -> x.change(MOST, 1));
         CHECKS.due("longest of the last eight", x.longest(MOST - 8, 0), 8);
@@ -237,7 +239,7 @@ public final class CallsBoundaryTest {
     }
 
     private static void changeByByte() {
-        CHECKS.says("4: xored with x (0 .. 255)");
+        CHECKS.says("4, 0 .. 255");
         int[] taken = {0, 1, 127, 128, 254, 255};
         for (int value : taken) {
             dueXored(0, value);
@@ -254,7 +256,7 @@ public final class CallsBoundaryTest {
     }
 
     private static void baseEmptiesInput() {
-        CHECKS.says("5: BASE is INPUT, which is empty then");
+        CHECKS.says("5, which is empty then");
         Run x = withTexts();
         CHECKS.due("base", x.base(), IN_INPUT);
         CHECKS.due("count(0)", x.count(0), 0);
@@ -274,7 +276,7 @@ public final class CallsBoundaryTest {
     }
 
     private static void baseOfNothing() {
-        CHECKS.says("5: BASE is INPUT, which is empty then");
+        CHECKS.says("5, which is empty then");
         Run x = withTexts();
         x.base();
         CHECKS.due("base, the second time", x.base(), 0);
@@ -309,7 +311,7 @@ public final class CallsBoundaryTest {
     }
 
     private static void makeLeavesBoth() {
-        CHECKS.says("6: both stay");
+        CHECKS.says("6, both stay");
         int[] letters = Bytes.differing(300);
         int[][] texts = {{}, EIGHT, letters, Bytes.join(EIGHT, letters), Bytes.repeat(40, EIGHT)};
         for (int[] input : texts) {
@@ -332,7 +334,7 @@ public final class CallsBoundaryTest {
     }
 
     private static void useLeavesBoth() {
-        CHECKS.says("7: both stay");
+        CHECKS.says("7, both stay");
         int[] sound = new Delta(8).copy(0, 8).fresh(Bytes.differing(100)).copy(3, 5).bytes();
         int[] empty = {8, 0};
         int[][] deltas = {sound, empty};
@@ -347,7 +349,7 @@ public final class CallsBoundaryTest {
     }
 
     private static void damagedLeavesAll() {
-        CHECKS.says("7: both stay, and what is refused changes nothing");
+        CHECKS.says("7, both stay, a DAMAGED one");
         int[] damaged = new Delta(8).copy(0, 8).fresh(Bytes.differing(100)).copy(3, 6).bytes();
         Run x = withInputAndBase(damaged, EIGHT);
         x.make();
@@ -358,7 +360,7 @@ public final class CallsBoundaryTest {
         Run full = new Run();
         full.putLong(EIGHT, MOST);
         full.base();
-        full.put(Bytes.join(Bytes.row(128, 128, 4, 128, 128, 4, 5), Bytes.text("abcde"), Bytes.row(177, 3, 240, 255, 0)));
+        full.put(128, 128, 4, 128, 128, 4, 5, 'a', 'b', 'c', 'd', 'e', 177, 3, 240, 255, 0);
         CHECKS.dueDamaged("BYTE 0 behind 65525", full);
         full.put(128, 128, 4, 128, 128, 4, 1, '!', 177, 1, 255, 255, 0);
         CHECKS.dueDamaged("BYTE 0 behind 65536", full);
@@ -379,7 +381,7 @@ public final class CallsBoundaryTest {
     }
 
     private static void turnTooLong() {
-        CHECKS.says("8: It would be too long: IllegalStateException");
+        CHECKS.says("8, It would be too long");
         int[] taken = {65019, 65020};
         for (int length : taken) {
             Run x = withLongDelta(length);
@@ -401,10 +403,24 @@ public final class CallsBoundaryTest {
         CHECKS.dueRefused("turn of the longest DELTA", STATE, longest, longest::turn);
         Run text = withLongInput(MOST);
         CHECKS.due("turn of 65536", text::turn, MOST);
+        turnTooLongWithCopy();
+    }
+
+    /** The eighth BYTE of INPUT is changed so that the first eight stand in BASE; no count is 0. */
+    private static void turnTooLongWithCopy() {
+        Run x = new Run();
+        x.putNothingOfBase(MOST);
+        x.change(7, 144 ^ 7);
+        CHECKS.dueDamaged("a long text", x);
+        CHECKS.due("make", x.make(), 6 + 2 + 65528 + 516);
+        CHECKS.due("COPIES", x.count(3), 1);
+        CHECKS.due("NEW BYTES", x.count(4), 65528);
+        CHECKS.dueRefused("turn", STATE, x, x::turn);
+        CHECKS.dueRefused("feed", STATE, x, () -> x.feed(1, 2, 3, 4, 5));
     }
 
     private static void turnOfNothing() {
-        CHECKS.says("8: INPUT is OUTPUT (which stays)");
+        CHECKS.says("8, INPUT is OUTPUT (which stays)");
         Run x = new Run();
         x.put(EIGHT);
         CHECKS.due("turn of nothing", x::turn, 0);
@@ -420,7 +436,7 @@ public final class CallsBoundaryTest {
     }
 
     private static void longestOfWhatIsThere() {
-        CHECKS.says("9: it must be there, else bad");
+        CHECKS.says("9, it must be there, else bad");
         Run x = withTexts();
         int[] refused = {-1, -2, IN_INPUT, IN_INPUT + 1, MOST, LEAST_INT, LEAST_INT + 1, GREATEST_INT};
         for (int i : refused) {
@@ -442,7 +458,7 @@ public final class CallsBoundaryTest {
     }
 
     private static void longestInNothing() {
-        CHECKS.says("9: it must be there, else bad");
+        CHECKS.says("9, it must be there, else bad");
         Run x = withTexts();
         x.end(IN_INPUT);
         int[] refused = {0, 1, -1, LEAST_INT, GREATEST_INT};
@@ -453,7 +469,7 @@ public final class CallsBoundaryTest {
     }
 
     private static void longestInAll65536() {
-        CHECKS.says("9: it must be there, else bad");
+        CHECKS.says("9, it must be there, else bad");
         Run x = withLongInput(MOST);
         CHECKS.due("longest(65528, 0)", () -> x.longest(MOST - 8, 0), 8);
         CHECKS.due("longest(65528, 1)", () -> x.longest(MOST - 8, 1), 0);
@@ -464,7 +480,7 @@ public final class CallsBoundaryTest {
     }
 
     private static void longestOfOtherWhat() {
-        CHECKS.says("9: the length (what 0); the place (1); a number out of range is bad");
+        CHECKS.says("9, the length (what 0); the place (1); bad is a number out of range");
         Run x = withTexts();
         CHECKS.due("longest(1, 0)", () -> x.longest(1, 0), 9);
         CHECKS.due("longest(1, 1)", () -> x.longest(1, 1), 0);
@@ -475,31 +491,42 @@ public final class CallsBoundaryTest {
         }
     }
 
-    private static void longestBelow8() {
-        CHECKS.says("9: 0 if it's below 8; -1 if it's below 8");
-        for (int length = 1; length <= 12; length++) {
-            Run x = new Run();
-            x.putBase(Bytes.join(Bytes.text("--"), Bytes.cut(Bytes.text("abcdefghijkl"), 0, length)));
-            x.put(Bytes.text("abcdefghijkl"));
-            CHECKS.due("longest(0, 0) of " + length, x.longest(0, 0), length < 8 ? 0 : length);
-            CHECKS.due("longest(0, 1) of " + length, x.longest(0, 1), length < 8 ? -1 : 2);
+    /** BASE has so many of the letters of INPUT, from place 2 on, or from place 0 on. */
+    private static Run withAlike(int many, boolean isFirst) {
+        int[] letters = Bytes.text("abcdefghijkl");
+        Run x = new Run();
+        x.putBase(Bytes.join(Bytes.text(isFirst ? "" : "--"), Bytes.cut(letters, 0, many)));
+        x.put(letters);
+        return x;
+    }
+
+    private static void lengthBelow8() {
+        CHECKS.says("9, 0 if it's below 8");
+        for (int many = 0; many <= 12; many++) {
+            int want = many < 8 ? 0 : many;
+            CHECKS.due("longest(0, 0) with " + many, withAlike(many, false).longest(0, 0), want);
+            CHECKS.due("longest(0, 0) with the first " + many, withAlike(many, true).longest(0, 0), want);
         }
-        Run place0 = new Run();
-        place0.putBase(Bytes.text("abcdefgh"));
-        place0.put(Bytes.text("abcdefg"));
-        CHECKS.due("seven at place 0: the length", place0.longest(0, 0), 0);
-        CHECKS.due("seven at place 0: the place", place0.longest(0, 1), -1);
-        place0.put(Bytes.text("abcdefgh"));
-        CHECKS.due("eight at place 0: the length", place0.longest(0, 0), 8);
-        CHECKS.due("eight at place 0: the place", place0.longest(0, 1), 0);
-        Run noBase = new Run();
-        noBase.put(Bytes.text("abcdefgh"));
-        CHECKS.due("none in no BASE: the length", noBase.longest(0, 0), 0);
-        CHECKS.due("none in no BASE: the place", noBase.longest(0, 1), -1);
+        Run ending = withAlike(12, false);
+        CHECKS.due("longest(4, 0), the last eight of INPUT", ending.longest(4, 0), 8);
+        CHECKS.due("longest(5, 0), the last seven of INPUT", ending.longest(5, 0), 0);
+        CHECKS.due("longest(11, 0), the last one of INPUT", ending.longest(11, 0), 0);
+    }
+
+    private static void placeBelow8() {
+        CHECKS.says("9, -1 if it's below 8");
+        for (int many = 0; many <= 12; many++) {
+            CHECKS.due("longest(0, 1) with " + many, withAlike(many, false).longest(0, 1), many < 8 ? -1 : 2);
+            CHECKS.due("longest(0, 1) with the first " + many, withAlike(many, true).longest(0, 1), many < 8 ? -1 : 0);
+        }
+        Run ending = withAlike(12, false);
+        CHECKS.due("longest(4, 1), the last eight of INPUT", ending.longest(4, 1), 6);
+        CHECKS.due("longest(5, 1), the last seven of INPUT", ending.longest(5, 1), -1);
+        CHECKS.due("longest(11, 1), the last one of INPUT", ending.longest(11, 1), -1);
     }
 
     private static void letterOfWhatIsThere() {
-        CHECKS.says("10: It isn't there: IndexOutOfBoundsException");
+        CHECKS.says("10, It isn't there");
         Run x = withTexts();
         int[] refused = {-1, -2, ITS_DELTA.length, ITS_DELTA.length + 1, IN_INPUT, MOST, LEAST_INT, LEAST_INT + 1,
             GREATEST_INT};
@@ -518,7 +545,7 @@ public final class CallsBoundaryTest {
     }
 
     private static void letterOfNothing() {
-        CHECKS.says("10: It isn't there: IndexOutOfBoundsException");
+        CHECKS.says("10, It isn't there");
         Run x = withTexts();
         x.put(9, 0);
         x.use();
@@ -529,7 +556,7 @@ public final class CallsBoundaryTest {
     }
 
     private static void letterOfLongOutputs() {
-        CHECKS.says("10: It isn't there: IndexOutOfBoundsException");
+        CHECKS.says("10, It isn't there");
         Run x = withLongInput(MOST);
         CHECKS.due("letter(65535)", () -> x.letter(MOST - 1), 'h');
         CHECKS.dueRefused("letter(65536)", OUTSIDE, x, () -> x.letter(MOST));
@@ -542,7 +569,7 @@ public final class CallsBoundaryTest {
     }
 
     private static void countBeforeMake() {
-        CHECKS.says("11: of the latest make COPIES (3) and NEW BYTES (4), 0 before");
+        CHECKS.says("11, 0 before");
         Run x = new Run();
         x.putBase(EIGHT);
         x.put(8, 9, 144, 8, 1, 'x');
@@ -557,7 +584,7 @@ public final class CallsBoundaryTest {
     }
 
     private static void countOfLatestMake() {
-        CHECKS.says("11: of the latest make COPIES (3) and NEW BYTES (4)");
+        CHECKS.says("11, of the latest make COPIES (3) and NEW BYTES (4)");
         Run x = withTexts();
         CHECKS.due("count(3)", x.count(3), 2);
         CHECKS.due("count(4)", x.count(4), 3);
@@ -583,8 +610,10 @@ public final class CallsBoundaryTest {
     }
 
     private static void countOfDamaged() {
-        CHECKS.says("11: how often READING was DAMAGED");
-        Run x = withTexts();
+        CHECKS.says("11, how often READING was DAMAGED");
+        Run x = new Run();
+        x.put(EIGHT);
+        x.make();
         CHECKS.due("count(5) at first", x.count(5), 0);
         for (int often = 1; often <= 3; often++) {
             CHECKS.dueDamaged("a text", x);
@@ -593,10 +622,7 @@ public final class CallsBoundaryTest {
         x.turn();
         x.use();
         CHECKS.due("count(5) behind a sound one", x.count(5), 3);
-        Checks.outcome(() -> x.end(-1));
-        Checks.outcome(() -> x.change(-1, 0));
-        Checks.outcome(() -> x.letter(-1));
-        Checks.outcome(() -> x.longest(-1, 0));
+        refuseAll(x);
         CHECKS.due("count(5) behind other refused calls", x.count(5), 3);
         x.base();
         x.make();
@@ -604,13 +630,13 @@ public final class CallsBoundaryTest {
     }
 
     private static void countOfOthers() {
-        CHECKS.says("11: else -1");
+        CHECKS.says("11, else -1");
         Run x = withTexts();
         int[] others = {-1, -2, 6, 7, 256, MOST, LEAST_INT, LEAST_INT + 1, GREATEST_INT};
         for (int what : others) {
             CHECKS.due("count(" + what + ")", () -> x.count(what), -1);
         }
-        int[] counts = {IN_INPUT, 9, ITS_DELTA.length, 2, 3, 0};
+        int[] counts = {IN_INPUT, 9, ITS_DELTA.length, 2, 3, 1};
         for (int what = 0; what <= 5; what++) {
             int asked = what;
             CHECKS.due("count(" + what + ")", () -> x.count(asked), counts[what]);
@@ -630,7 +656,7 @@ public final class CallsBoundaryTest {
     }
 
     private static void refusedChangesNothing() {
-        CHECKS.says("What is refused changes nothing");
+        CHECKS.says("What is refused changes nothing.");
         refuseAll(new Run());
         Run x = withTexts();
         refuseAll(x);
@@ -653,7 +679,7 @@ public final class CallsBoundaryTest {
     }
 
     private static void refusedWithLongTexts() {
-        CHECKS.says("What is refused changes nothing");
+        CHECKS.says("What is refused changes nothing.");
         Run x = withLongDelta(65530);
         CHECKS.dueRefused("feed", STATE, x, () -> x.feed(1, 2, 3, 4, 5));
         CHECKS.dueRefused("turn", STATE, x, x::turn);

@@ -31,8 +31,12 @@ final class Checks {
             if (wrong > MOST_TOLD) {
                 return;
             }
-            System.out.println(sentence + what + " answered " + got + ", due is " + want);
+            System.out.println(sentence + what + " answered " + inShort(got) + ", due is " + inShort(want));
         }
+    }
+
+    private static String inShort(String answer) {
+        return answer.length() <= 500 ? answer : answer.substring(0, 500) + "..";
     }
 
     void due(String what, Call call, long want) {
@@ -63,11 +67,11 @@ final class Checks {
         due("OUTPUT of " + what, Arrays.toString(x.output()), Arrays.toString(want));
     }
 
-    /** The call throws this, and every answer of count, letter and longest is as before it. */
+    /** The call throws this, and every answer of count, letter and longest is as before it, and so is the DELTA. */
     void dueRefused(String what, Class<? extends RuntimeException> want, Run x, Call call) {
         Run.Answers before = x.answers();
         dueThrow(what, want, call);
-        dueAnswers("behind refused " + what, x.answersAsTo(before), before.outcomes());
+        dueAnswers("behind refused " + what, x.answersAsTo(before), before);
     }
 
     /** As dueRefused, but for count(5), which is one more. */
@@ -77,12 +81,18 @@ final class Checks {
         List<String> want = new ArrayList<>(before.outcomes());
         int counted = before.questions().indexOf(new Run.Question("count", 0, 5));
         want.set(counted, Integer.toString(Integer.parseInt(want.get(counted)) + 1));
-        dueAnswers("behind DAMAGED " + what, x.answersAsTo(before), want);
+        dueAnswers("behind DAMAGED " + what, x.answersAsTo(before),
+                new Run.Answers(before.questions(), want, before.delta()));
     }
 
-    void dueAnswers(String what, Run.Answers got, List<String> want) {
-        for (int k = 0; k < want.size(); k++) {
-            due(got.questions().get(k) + " " + what, got.outcomes().get(k), want.get(k));
+    private void dueAnswers(String what, Run.Answers got, Run.Answers want) {
+        dueEach(what, want.questions(), got.outcomes(), want.outcomes());
+        due("make " + what, got.delta(), want.delta());
+    }
+
+    void dueEach(String what, List<Run.Question> questions, List<String> got, List<String> want) {
+        for (int k = 0; k < questions.size(); k++) {
+            due(questions.get(k) + " " + what, got.get(k), want.get(k));
         }
     }
 }

@@ -62,7 +62,7 @@ public final class ModelTest {
             questions.add(new Run.Question("longest", within(model.count(0)), random.nextInt(2)));
         }
         List<String> want = questions.stream().map(asked -> Checks.outcome(() -> answerOfModel(asked))).toList();
-        CHECKS.dueAnswers("at the end of " + name, new Run.Answers(questions, x.ask(questions)), want);
+        CHECKS.dueEach("at the end of " + name, questions, x.ask(questions), want);
     }
 
     private int answerOfModel(Run.Question asked) {

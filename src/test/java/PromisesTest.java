@@ -219,7 +219,8 @@ public final class PromisesTest {
         dueUse("a COPY of 1", x, Bytes.row(10, 1, 145, 9, 1), 'j');
         dueUse("a COPY of all", x, Bytes.row(10, 10, 144, 10), Bytes.text("abcdefghij"));
         dueUse("all BYTES of a COPY", x, Bytes.row(10, 3, 255, 2, 0, 0, 0, 3, 0, 0), 'c', 'd', 'e');
-        dueUse("COPIES backwards", x, Bytes.row(138, 128, 128, 0, 5, 145, 8, 2, 1, '-', 144, 2), 'i', 'j', '-', 'a', 'b');
+        dueUse("COPIES backwards", x, Bytes.row(138, 128, 128, 0, 5, 145, 8, 2, 1, '-', 144, 2),
+                'i', 'j', '-', 'a', 'b');
         Run y = new Run();
         y.putLong(Bytes.text("abcdefgh"), 65536);
         y.base();

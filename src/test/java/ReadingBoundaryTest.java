@@ -88,7 +88,7 @@ public final class ReadingBoundaryTest {
     }
 
     private static void firstNumberOfAtMostFour() {
-        CHECKS.says("two numbers of at most 4 BYTES each (BYTES of 128 that add nothing are fine): the first");
+        CHECKS.says("of at most 4 BYTES each (BYTES of 128 that add nothing are fine), the first");
         int[][] four = {{10}, {138, 0}, {138, 128, 0}, {138, 128, 128, 0}};
         for (int[] number : four) {
             soundOnTen(Bytes.join(number, Bytes.row(2), TWO_NEW), 'x', 'y');
@@ -107,7 +107,7 @@ public final class ReadingBoundaryTest {
     }
 
     private static void secondNumberOfAtMostFour() {
-        CHECKS.says("two numbers of at most 4 BYTES each (BYTES of 128 that add nothing are fine): the second");
+        CHECKS.says("of at most 4 BYTES each (BYTES of 128 that add nothing are fine), the second");
         int[][] four = {{2}, {130, 0}, {130, 128, 0}, {130, 128, 128, 0}};
         for (int[] number : four) {
             soundOnTen(Bytes.join(Bytes.row(10), number, TWO_NEW), 'x', 'y');
@@ -184,7 +184,7 @@ public final class ReadingBoundaryTest {
     }
 
     private static void threeBytesOfLength() {
-        CHECKS.says("COPIES, with bits 0 .. 6 (three BYTES of length)");
+        CHECKS.says("three BYTES of length");
         Run x = onLong(MOST);
         sound(x, Bytes.row(128, 128, 4, 255, 255, 3, 176, 255, 255), longText(MOST - 1));
         sound(x, Bytes.join(ALL_ON_ALL, Bytes.row(192, 1)), longText(MOST));
@@ -238,7 +238,7 @@ public final class ReadingBoundaryTest {
     }
 
     private static void withinBase() {
-        CHECKS.says("COPIES wholly within BASE");
+        CHECKS.says("wholly within BASE");
         for (int place = 0; place <= 9; place++) {
             copyOnTen(true, place, 1);
             copyOnTen(true, place, 10 - place);
@@ -252,7 +252,7 @@ public final class ReadingBoundaryTest {
     }
 
     private static void withinNoBase() {
-        CHECKS.says("COPIES wholly within BASE, which is nothing");
+        CHECKS.says("wholly within BASE, which is nothing");
         Run x = onNothing();
         damaged(x, 0, 1, 144, 1);
         damaged(x, 0, 1, 145, 1, 1);
@@ -263,7 +263,7 @@ public final class ReadingBoundaryTest {
     }
 
     private static void withinLongestBase() {
-        CHECKS.says("COPIES wholly within BASE, which is 65536");
+        CHECKS.says("wholly within BASE, which is 65536");
         Run x = onLong(MOST);
         int[] all = longText(MOST);
         sound(x, new Delta(MOST).copy(65535, 1).bytes(), all[65535]);
@@ -271,7 +271,8 @@ public final class ReadingBoundaryTest {
         sound(x, new Delta(MOST).copy(1, 65535).bytes(), Bytes.cut(all, 1, MOST));
         sound(x, new Delta(MOST).copy(0, 65536).bytes(), all);
         Run y = onLong(MOST);
-        int[][] placesAndLengths = {{65535, 2}, {65536, 1}, {65537, 1}, {1, 65536}, {2, 65535}, {131071, 1}, {65536, 65536}};
+        int[][] placesAndLengths = {{65535, 2}, {65536, 1}, {65537, 1}, {1, 65536}, {2, 65535}, {131071, 1},
+            {65536, 65536}};
         for (int[] copy : placesAndLengths) {
             damaged(y, new Delta(MOST).copy(copy[0], copy[1]).bytes());
         }
@@ -279,7 +280,7 @@ public final class ReadingBoundaryTest {
 
     /** Places that would fall into BASE if the highest BYTES were lost, or if place and length went round. */
     private static void placesThatWrapAround() {
-        CHECKS.says("COPIES wholly within BASE");
+        CHECKS.says("wholly within BASE");
         int[] places = {256, 257, 65536, 65537, 1 << 24, (1 << 24) + 1, Integer.MAX_VALUE, Integer.MAX_VALUE - 1,
             Integer.MIN_VALUE, Integer.MIN_VALUE + 1, -1, -2, -10};
         for (int place : places) {
@@ -320,7 +321,8 @@ public final class ReadingBoundaryTest {
         for (int length : lengths) {
             int[] bytes = Bytes.differing(length);
             soundOnTen(new Delta(10).fresh(bytes).bytes(), bytes);
-            soundOnTen(new Delta(10).fresh(bytes).fresh(1).fresh(bytes).bytes(), Bytes.join(bytes, Bytes.row(1), bytes));
+            soundOnTen(new Delta(10).fresh(bytes).fresh(1).fresh(bytes).bytes(),
+                    Bytes.join(bytes, Bytes.row(1), bytes));
         }
         // A row of 128 would begin as a COPY does.
         damagedOnTen(Bytes.join(Bytes.row(10, 128, 1, 128), Bytes.repeat(128, 'x')));
@@ -358,7 +360,7 @@ public final class ReadingBoundaryTest {
     }
 
     private static void exactlyAsManyByNew() {
-        CHECKS.says("that make exactly as many BYTES as the second number says");
+        CHECKS.says("exactly as many BYTES as the second number says");
         soundOnTen(Bytes.row(10, 2, 2, 'x', 'y'), 'x', 'y');
         soundOnTen(Bytes.row(10, 2, 1, 'x', 1, 'y'), 'x', 'y');
         damagedOnTen(10, 1, 2, 'x', 'y');
@@ -374,7 +376,7 @@ public final class ReadingBoundaryTest {
     }
 
     private static void exactlyAsManyByCopies() {
-        CHECKS.says("that make exactly as many BYTES as the second number says");
+        CHECKS.says("exactly as many BYTES as the second number says");
         soundOnTen(Bytes.row(10, 5, 144, 5), 'a', 'b', 'c', 'd', 'e');
         soundOnTen(Bytes.row(10, 5, 144, 3, 145, 8, 2), 'a', 'b', 'c', 'i', 'j');
         damagedOnTen(10, 4, 144, 5);
@@ -389,9 +391,10 @@ public final class ReadingBoundaryTest {
     }
 
     private static void exactlyAsManyOf65536() {
-        CHECKS.says("that make exactly as many BYTES as the second number says");
+        CHECKS.says("exactly as many BYTES as the second number says");
         Run x = onLong(MOST);
-        sound(x, Bytes.join(ALL_ON_ALL, Bytes.row(176, 255, 255, 1, 'x')), Bytes.join(longText(MOST - 1), Bytes.row('x')));
+        sound(x, new Delta(MOST).copy(0, MOST - 1).fresh('x').bytes(),
+                Bytes.join(longText(MOST - 1), Bytes.row('x')));
         Run y = onLong(MOST);
         damaged(y, Bytes.join(ALL_ON_ALL, Bytes.row(176, 255, 255)));
         damaged(y, Bytes.join(ALL_ON_ALL, Bytes.row(176, 255, 255, 2, 'x', 'y')));

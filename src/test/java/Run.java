@@ -1,4 +1,5 @@
 import java.util.ArrayList;
+import java.util.Arrays;
 import java.util.List;
 import java.util.stream.IntStream;
 
@@ -38,8 +39,8 @@ final class Run {
         }
     }
 
-    /** What was asked and what was answered, in the same order. */
-    record Answers(List<Question> questions, List<String> outcomes) {
+    /** What was asked and what was answered, in the same order; and, as nothing else tells INPUT whole, its DELTA. */
+    record Answers(List<Question> questions, List<String> outcomes, String delta) {
     }
 
     private final DeltaPress object = new DeltaPress();
@@ -187,15 +188,23 @@ final class Run {
     Answers answers() {
         if (known == null) {
             List<Question> questions = allQuestions();
-            known = new Answers(questions, ask(questions));
+            known = new Answers(questions, ask(questions), delta());
         }
         return known;
     }
 
     /** The same questions once more. */
     Answers answersAsTo(Answers before) {
-        known = new Answers(before.questions(), ask(before.questions()));
+        known = new Answers(before.questions(), ask(before.questions()), delta());
         return known;
+    }
+
+    /** What make would make OUTPUT. */
+    private String delta() {
+        Run more = new Run();
+        steps.forEach(step -> Checks.outcome(() -> more.call(step)));
+        more.make();
+        return Arrays.toString(more.output());
     }
 
     private List<Question> allQuestions() {

@@ -123,7 +123,7 @@ public final class TermsBoundaryTest {
     }
 
     private static void inputOfAtMost65536() {
-        CHECKS.says("INPUT and BASE are TEXTS of at most 65536 BYTES");
+        CHECKS.says("TEXTS of at most 65536 BYTES");
         Run x = withInput(MOST);
         CHECKS.due("INPUT of 65536 by turn", x.count(0), MOST);
         CHECKS.dueRefused("feed when full", STATE, x, () -> x.feed(1, 2, 3, 4, 5));
@@ -134,7 +134,7 @@ public final class TermsBoundaryTest {
     }
 
     private static void baseOfAtMost65536() {
-        CHECKS.says("INPUT and BASE are TEXTS of at most 65536 BYTES");
+        CHECKS.says("TEXTS of at most 65536 BYTES");
         for (int length = MOST - 1; length <= MOST; length++) {
             Run x = withInput(length);
             CHECKS.due("base()", x.base(), length);
@@ -154,10 +154,17 @@ public final class TermsBoundaryTest {
             CHECKS.dueOutput("make of " + lengths[0], x, allNew(Bytes.row(0), Bytes.repeat(8192, EIGHT), lengths[0]));
             CHECKS.dueRefused("letter behind OUTPUT", OUTSIDE, x, () -> x.letter(lengths[1]));
         }
-        Run longest = new Run();
-        longest.putNothingOfBase(MOST);
-        CHECKS.due("the longest DELTA", longest.make(), 66059);
-        CHECKS.dueOutput("the longest DELTA", longest, allNew(Bytes.row(128, 128, 4), Run.NOTHING_OF_BASE, MOST));
+        // Whichever row an object keeps OUTPUT in behind an even or odd number of readings, it must be long enough.
+        for (int readings = 0; readings <= 1; readings++) {
+            Run x = new Run();
+            x.put(0, 0);
+            for (int k = 0; k < readings; k++) {
+                x.use();
+            }
+            x.putNothingOfBase(MOST);
+            CHECKS.due("the longest DELTA", x::make, 66059);
+            CHECKS.dueOutput("the longest DELTA", x, allNew(Bytes.row(128, 128, 4), Run.NOTHING_OF_BASE, MOST));
+        }
     }
 
     private static int[] allNew(int[] lengthOfBase, int[] text, int length) {
@@ -187,7 +194,7 @@ public final class TermsBoundaryTest {
     }
 
     private static void greatestLength() {
-        CHECKS.says("LONGEST: the greatest length");
+        CHECKS.says("LONGEST, the greatest length");
         Run x = new Run();
         x.putBase(Bytes.text("abcdefgh-abcdefghi-abcdefghij-abcdefgh"));
         x.put(Bytes.text("abcdefghijk"));
@@ -205,7 +212,7 @@ public final class TermsBoundaryTest {
     }
 
     private static void atMost65535() {
-        CHECKS.says("LONGEST: at most 65535");
+        CHECKS.says("LONGEST, at most 65535");
         for (int length = MOST - 2; length <= MOST; length++) {
             Run x = withInput(length);
             x.base();
@@ -226,7 +233,7 @@ public final class TermsBoundaryTest {
     }
 
     private static void leastPlace() {
-        CHECKS.says("LONGEST: the least place there for it");
+        CHECKS.says("LONGEST, the least place there for it");
         Run x = new Run();
         x.putBase(Bytes.text("01234567-01234567+01234567-01234567"));
         x.put(Bytes.text("01234567+1234567-01234567"));
@@ -246,7 +253,7 @@ public final class TermsBoundaryTest {
     }
 
     private static void lastPlaces() {
-        CHECKS.says("LONGEST: the least place there for it");
+        CHECKS.says("LONGEST, the least place there for it");
         Run x = new Run();
         x.putLong(Bytes.row('x'), MOST);
         x.end(20);
@@ -265,7 +272,7 @@ public final class TermsBoundaryTest {
     };
 
     private static void sevenBitsOfBase() {
-        CHECKS.says("DELTA: the length of BASE as a number of 7 bits a BYTE, lowest first, 128 added to all but the last");
+        CHECKS.says("numbers of 7 bits a BYTE, lowest first, 128 added to all but the last, of BASE");
         for (int[] number : NUMBERS) {
             Run x = withInput(number[0]);
             x.base();
@@ -278,7 +285,7 @@ public final class TermsBoundaryTest {
     }
 
     private static void sevenBitsOfInput() {
-        CHECKS.says("DELTA: the length of INPUT as a number of 7 bits a BYTE, lowest first, 128 added to all but the last");
+        CHECKS.says("numbers of 7 bits a BYTE, lowest first, 128 added to all but the last, of INPUT");
         for (int[] number : NUMBERS) {
             Run x = withInput(number[0]);
             int rows = (number[0] + 126) / 127;
@@ -298,7 +305,7 @@ public final class TermsBoundaryTest {
     }
 
     private static void eightOrMore() {
-        CHECKS.says("DELTA: if the LONGEST is of 8 or more, a COPY of it, else the BYTE is NEW");
+        CHECKS.says("if the LONGEST is of 8 or more");
         Run x = new Run();
         x.putBase(Bytes.text("-abcdefghi"));
         dueMake("seven", x, "abcdefg", 10, 7, 7, 'a', 'b', 'c', 'd', 'e', 'f', 'g');
@@ -327,7 +334,7 @@ public final class TermsBoundaryTest {
     }
 
     private static void bytesOfPlace() {
-        CHECKS.says("COPY: bits 0 .. 3 for those of the four BYTES of the place in BASE, lowest first, that aren't 0");
+        CHECKS.says("those of the four BYTES of the place in BASE, lowest first, that aren't 0");
         int[][] placesAndCopies = {
             {0, 144, 8}, {1, 145, 1, 8}, {255, 145, 255, 8}, {256, 146, 1, 8}, {257, 147, 1, 1, 8},
             {512, 146, 2, 8}, {65279, 147, 255, 254, 8}, {65280, 146, 255, 8}, {65281, 147, 1, 255, 8},
@@ -342,7 +349,7 @@ public final class TermsBoundaryTest {
     }
 
     private static void bytesOfLength() {
-        CHECKS.says("COPY: bits 4 and 5 for those of the two BYTES of the length; then those that aren't 0");
+        CHECKS.says("bits 4 and 5 for those of the two of the length");
         int[][] lengthsAndCopies = {
             {8, 144, 8}, {255, 144, 255}, {256, 160, 1}, {257, 176, 1, 1}, {511, 176, 255, 1}, {512, 160, 2},
             {65279, 176, 255, 254}, {65280, 160, 255}, {65281, 176, 1, 255}, {65535, 176, 255, 255},
@@ -361,7 +368,7 @@ public final class TermsBoundaryTest {
     }
 
     private static void rowsOf127() {
-        CHECKS.says("NEW ones in a row: 127 each, the last ones fewer");
+        CHECKS.says("127 each, the last ones fewer");
         int[] lengths = {1, 2, 126, 127, 128, 129, 253, 254, 255, 380, 381, 382};
         for (int length : lengths) {
             Run x = new Run();
@@ -375,7 +382,7 @@ public final class TermsBoundaryTest {
     }
 
     private static void rowsOf127RoundCopies() {
-        CHECKS.says("NEW ones in a row: 127 each, the last ones fewer");
+        CHECKS.says("127 each, the last ones fewer");
         int[][] rowsAndParts = {{126, 126}, {127, 127}, {128, 127, 1}, {254, 127, 127}, {255, 127, 127, 1}};
         for (int[] row : rowsAndParts) {
             int[] bytes = Bytes.repeat(row[0], '?');
