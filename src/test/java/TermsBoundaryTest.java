@@ -40,23 +40,55 @@ public final class TermsBoundaryTest {
             CHECKS.dueThrow("use " + k, ArithmeticException.class, damaged::use);
         }
         CHECKS.due("count(5), the 512th call", damaged.count(5), 511);
-        Run made = new Run();
-        made.feed(1, 2, 3, 4, 5);
-        made.base();
-        made.feed(1, 2, 3, 4, 5);
-        for (int k = 4; k <= 511; k++) {
-            CHECKS.due("make, call " + k, made.make(), 4);
-        }
-        CHECKS.due("count(3), the 512th call", made.count(3), 1);
+        Run x = new Run();
+        until512("end(0)", x, () -> x.end(0), 0);
+        Run y = new Run();
+        until512("base", y, y::base, 0);
+        Run z = new Run();
+        until512("count(6)", z, () -> z.count(6), -1);
+        eachUntil512();
     }
 
-    /** BASE is eight letters, INPUT its DELTA on itself, OUTPUT the same: 511 calls in all. */
-    private static Run after511() {
+    private static void until512(String what, Run x, Checks.Call call, int want) {
+        while (x.calls() < 512) {
+            CHECKS.due(what + ", call " + (x.calls() + 1), call, want);
+        }
+    }
+
+    private static void eachUntil512() {
+        Run made = withItself();
+        until512("make", made, made::make, 7);
+        Run used = withItself();
+        until512("use", used, used::use, 8);
+        Run turned = withItself();
+        until512("turn", turned, turned::turn, 4);
+        Run looked = withItself();
+        looked.put(EIGHT);
+        until512("longest", looked, () -> looked.longest(0, 0), 8);
+        Run read = withItself();
+        until512("letter", read, () -> read.letter(3), 8);
+        Run changed = withItself();
+        while (changed.calls() < 509) {
+            changed.change(3, 1);
+            changed.change(3, 1);
+        }
+        changed.change(3, 1);
+        CHECKS.due("make behind 500 changes", changed.make(), 7);
+        CHECKS.due("the BYTE changed an odd number of times, the 512th call", changed.letter(6), 9);
+    }
+
+    /** BASE is eight letters, INPUT and OUTPUT are their DELTA on themselves. */
+    private static Run withItself() {
         Run x = new Run();
         x.putBase(EIGHT);
         x.put(EIGHT);
         x.make();
         x.turn();
+        return x;
+    }
+
+    private static Run after511() {
+        Run x = withItself();
         while (x.calls() < 511) {
             CHECKS.due("call " + (x.calls() + 1), x.count(0), 4);
         }
