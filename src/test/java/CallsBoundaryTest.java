@@ -371,11 +371,7 @@ public final class CallsBoundaryTest {
 
     /** OUTPUT is the DELTA of INPUT, so many BYTES, on nothing: all of them are NEW. */
     private static Run withLongDelta(int length) {
-        Run x = new Run();
-        x.putLong(EIGHT, length);
-        x.base();
-        x.base();
-        x.turn();
+        Run x = Run.withLong(EIGHT, length);
         CHECKS.due("make of " + length, x.make(), 4 + length + (length + 126) / 127);
         return x;
     }

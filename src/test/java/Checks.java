@@ -67,6 +67,14 @@ final class Checks {
         due("OUTPUT of " + what, Arrays.toString(x.output()), Arrays.toString(want));
     }
 
+    void dueInput(String what, Run x, int... want) {
+        due("INPUT of " + what, Arrays.toString(x.textOfInput()), Arrays.toString(want));
+    }
+
+    void dueBase(String what, Run x, int... want) {
+        due("BASE of " + what, Arrays.toString(x.textOfBase()), Arrays.toString(want));
+    }
+
     /** The call throws this, and every answer of count, letter and longest is as before it, and so is the DELTA. */
     void dueRefused(String what, Class<? extends RuntimeException> want, Run x, Call call) {
         Run.Answers before = x.answers();

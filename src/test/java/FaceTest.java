@@ -6,26 +6,14 @@ import java.lang.reflect.Method;
 import java.lang.reflect.Modifier;
 import java.nio.file.Files;
 import java.nio.file.Path;
-import java.util.Arrays;
 import java.util.Set;
 import java.util.TreeSet;
 import java.util.regex.Pattern;
+import java.util.stream.Stream;
 
 /** The public face as the document writes it, and rules of LANGUAGE.md that can be seen from outside or in the text. */
 public final class FaceTest {
     private static final Checks CHECKS = new Checks();
-    private static final String[] FACE = {
-        "public int feed(int,int,int,int,int) throws IllegalStateException",
-        "public int end(int) throws IllegalArgumentException",
-        "public void change(int,int) throws IllegalArgumentException",
-        "public int base()",
-        "public int make()",
-        "public int use() throws ArithmeticException",
-        "public int turn() throws IllegalStateException",
-        "public int longest(int,int) throws IllegalArgumentException",
-        "public int letter(int) throws IndexOutOfBoundsException",
-        "public int count(int)",
-    };
     private static final String[] RULED_OUT = {
         "->", "::", "\\bfinally\\b", "\\bsynchronized\\b", "\\bassert\\b", "\\bcatch\\b", "Exact\\b", "\\brecord\\b",
         "static \\{", "\\bSystem\\.(?!arraycopy)", "\\bRandom\\b", "\\bThread\\b", "\\bMath\\.random\\b",
@@ -45,20 +33,27 @@ public final class FaceTest {
         CHECKS.finish();
     }
 
-    private static void face() {
+    private static void face() throws IOException {
         Set<String> got = new TreeSet<>();
-        for (Method method : DeltaPress.class.getDeclaredMethods()) {
-            if (!Modifier.isPrivate(method.getModifiers())) {
-                got.add(method.toString().replace("DeltaPress.", "").replace("java.lang.", ""));
-            }
-        }
-        CHECKS.due("1: the methods", String.join("\n", got), String.join("\n", new TreeSet<>(Arrays.asList(FACE))));
-        Constructor<?>[] constructors = DeltaPress.class.getDeclaredConstructors();
-        CHECKS.due("1: the constructors", Arrays.toString(constructors), "[public DeltaPress()]");
+        Stream.of(DeltaPress.class.getDeclaredMethods(), DeltaPress.class.getDeclaredConstructors())
+                .flatMap(Stream::of)
+                .filter(member -> !Modifier.isPrivate(member.getModifiers()))
+                .forEach(member -> got.add(member.toString().replace("DeltaPress.", "").replace("java.lang.", "")));
+        CHECKS.due("1: the methods and constructors", String.join("\n", got), String.join("\n", faceOfDocument()));
         CHECKS.due("1: the class", Modifier.toString(DeltaPress.class.getModifiers()), "public final");
         for (Field field : DeltaPress.class.getDeclaredFields()) {
             CHECKS.due("1: " + field + " is private", Modifier.isPrivate(field.getModifiers()) ? 1 : 0, 1);
         }
+    }
+
+    /** As the document writes it, without the names of the parameters. */
+    private static Set<String> faceOfDocument() throws IOException {
+        Set<String> face = new TreeSet<>();
+        for (String line : Document.face()) {
+            face.add(line.replaceAll("(\\bint) \\w+(, |\\))", "$1$2").replace(", ", ",").replace(";", ""));
+        }
+        CHECKS.due("the document's face has ten methods and a constructor", face.size(), 11);
+        return face;
     }
 
     private static void members(Class<?> type) {

@@ -143,6 +143,16 @@ final class Run {
         } while (made < length);
     }
 
+    /** INPUT and OUTPUT are the period again and again, BASE is nothing. */
+    static Run withLong(int[] period, int length) {
+        Run x = new Run();
+        x.putLong(period, length);
+        x.base();
+        x.base();
+        x.turn();
+        return x;
+    }
+
     /**
      * BASE and INPUT become texts of many BYTES of which no eight in a row are alike. BASE is a row of COPIES of seven
      * BYTES each; so it can make the DELTA of all those COPIES, which makes, of the same BASE, INPUT: seams where there
@@ -199,12 +209,36 @@ final class Run {
         return known;
     }
 
-    /** What make would make OUTPUT. */
-    private String delta() {
+    /** Another run that begins with the same calls. */
+    private Run onward() {
         Run more = new Run();
         steps.forEach(step -> Checks.outcome(() -> more.call(step)));
+        return more;
+    }
+
+    /** What make would make OUTPUT. */
+    private String delta() {
+        Run more = onward();
         more.make();
         return Arrays.toString(more.output());
+    }
+
+    /** INPUT, as its DELTA makes it again; the DELTA must not be too long to be INPUT. */
+    int[] textOfInput() {
+        Run more = onward();
+        more.make();
+        more.turn();
+        more.use();
+        return more.output();
+    }
+
+    /** BASE, as a COPY of all of it makes it. */
+    int[] textOfBase() {
+        Run more = onward();
+        int length = more.count(1);
+        more.put(new Delta(length).copies(length, length).bytes());
+        more.use();
+        return more.output();
     }
 
     private List<Question> allQuestions() {

@@ -147,12 +147,7 @@ public final class TermsBoundaryTest {
 
     /** INPUT is so many BYTES of a text with a period of eight, BASE nothing. */
     private static Run withInput(int length) {
-        Run x = new Run();
-        x.putLong(EIGHT, length);
-        x.base();
-        x.base();
-        x.turn();
-        return x;
+        return Run.withLong(EIGHT, length);
     }
 
     private static void inputOfAtMost65536() {
