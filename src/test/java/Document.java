@@ -15,11 +15,17 @@ final class Document {
         this.checks = checks;
     }
 
-    /** The words that come next in the document, and the test that fails where they do not hold. */
+    /**
+     * The words that come next in the document, and the test that fails where they do not hold. A call that throws
+     * where no test waits for it ends this test alone.
+     */
     void says(String words, Runnable test) {
         gone.add(words);
         checks.says(words);
-        test.run();
+        checks.due("the test", Checks.outcome(() -> {
+            test.run();
+            return 0;
+        }), "0");
     }
 
     /** Words that promise neither an answer nor a change of state. */

@@ -27,8 +27,8 @@ final class OnCalls {
         Run x = new Run();
         x.putBase(BASE);
         x.put(INPUT);
-        x.make();
         checks.dueThrow("use of a text", ArithmeticException.class, x::use);
+        x.make();
         return x;
     }
 

@@ -181,8 +181,8 @@ final class OnReading {
     private Run withTexts() {
         Run x = onLong(10);
         x.put(Bytes.text("abcdefghij!"));
-        x.make();
         checks.dueThrow("use of a text", ArithmeticException.class, x::use);
+        x.make();
         return x;
     }
 

@@ -163,6 +163,9 @@ final class OnTerms {
         dueLongest(x, 0, 9, 9);
         x.end(1);
         dueLongest(x, 0, 8, 0);
+        Run y = with(Bytes.text("abcdefgh-abcdefghi-abcdefghij-abcdefghijk"), Bytes.text("abcdefghijkl"));
+        dueLongest(y, 0, 11, 30);
+        dueLongest(y, 1, 10, 31);
         dueLongest(with(FOX, FOX), 0, 43, 0);
         dueLongest(with(Bytes.text("aaaaaaaaa"), Bytes.text("aaaaaaaaaaaaaaa")), 0, 9, 0);
     }
@@ -187,6 +190,11 @@ final class OnTerms {
         }
         dueLongest(with(Bytes.text("abcdefg"), EIGHT), 0, 0, -1);
         dueLongest(with(Bytes.row(), EIGHT), 0, 0, -1);
+        for (int bit = 0; bit < 8; bit++) {
+            Run changed = with(EIGHT, EIGHT);
+            changed.change(4, 1 << bit);
+            dueLongest(changed, 0, 0, -1);
+        }
         // What stands in INPUT alone does not count, nor what goes on from the end of BASE at its beginning.
         dueLongest(with(EIGHT, Bytes.text("12345678-12345678")), 9, 0, -1);
         dueLongest(with(EIGHT, Bytes.text("efghabcd")), 0, 0, -1);
@@ -198,6 +206,7 @@ final class OnTerms {
         x.put(Bytes.text("01234567+"));
         dueLongest(x, 0, 9, 10);
         dueLongest(with(Bytes.repeat(100, 'a'), Bytes.repeat(50, 'a')), 20, 30, 0);
+        dueLongest(with(Bytes.text("abcdefgh1abcdefgh12abcdefgh123abcdefgh12"), Bytes.text("abcdefgh12")), 0, 10, 9);
         dueLongest(with(Bytes.repeat(20, 'a', 'b'), Bytes.repeat(10, 'b', 'a')), 0, 20, 1);
     }
 
